@@ -678,7 +678,8 @@ public final class MouthRiddles {
         int answerIn(int stage, int riddle) {
             if (stage == NONE) return NONE;
             int fitting = riddles.fittingWithout(riddle, NONE, sights[stage]);
-            return Integer.bitCount(fitting) == 1 ? Integer.numberOfTrailingZeros(fitting) : NONE;
+            // Of a lone bit, the number is that of the bits below it.
+            return Integer.bitCount(fitting) == 1 ? Integer.bitCount(fitting - 1) : NONE;
         }
 
         private int answerOf(int head, int riddle) {

@@ -3,7 +3,7 @@ import java.util.Random;
 /** Long runs of calls, drawn from told seeds, on the program and on the model at once. */
 public final class ModelTest {
     // A step makes up to a hundred calls, and an object is used for 512 at most.
-    private static final int RUNS = 240, LAST_STEP_AT = 400;
+    private static final int RUNS = 240, LAST_STEP_AT = 400, MAKINGS = 400;
     private static final int[] ODD = {-1, -2, 0, 1, 2, 3, 5, 6, 7, 8, 9, 10, 11, 12, 15, 16, 19, 20, 23, 24, 39, 40, 99, 100, 999, 1000,
         16777215, 16777216, Integer.MAX_VALUE, Integer.MIN_VALUE};
 
@@ -17,12 +17,14 @@ public final class ModelTest {
 
     private ModelTest(int run) {
         this.run = run;
-        this.random = new Random(7700L + run);
+        // Seeds that lie close together draw alike at first, so they are spread.
+        this.random = new Random((run + 1) * 0x9E3779B97F4A7C15L);
     }
 
     public static void main(String[] args) {
         int wrong = 0;
         for (int run = 0; run < RUNS; run++) wrong += new ModelTest(run).go();
+        for (int run = 0; run < MAKINGS; run++) wrong += new ModelTest(RUNS + run).goMaking();
         System.out.println(wrong == 0 ? "ModelTest: all answers are as due" : "ModelTest: " + wrong + " answers are not as due");
         if (wrong != 0) System.exit(1);
     }
@@ -31,6 +33,35 @@ public final class ModelTest {
         for (int i = 0; calls < LAST_STEP_AT && wrong < 5; i++) {
             if (i % 40 == 39) digest();
             else step(i);
+        }
+        digest();
+        return wrong;
+    }
+
+    /** Things that share many of their traits: riddles for one alone take several sayings, in several ways. */
+    private int goMaking() {
+        int things = 2 + below(11), sayings = 4 + below(17);
+        boolean dense = below(2) == 0;
+        for (int t = 0; t < things; t++) {
+            int traits = dense ? 4095 & ~(1 << below(12)) & ~(1 << below(12))
+                : random.nextInt(4096) | random.nextInt(4096) & random.nextInt(4096);
+            call = "thing(" + traits + ")";
+            due(x.thing(traits), m.thing(traits));
+        }
+        for (int w = 0; w < (dense ? 18 : 24); w++) {
+            int trait = below(12), word = w % 16;
+            call = "sense(" + word + ", " + trait + ")";
+            due(x.sense(word, trait), m.sense(word, trait));
+        }
+        for (int s = 0; s < sayings; s++) {
+            int kind = below(3) > 0 ? below(2) : below(5), word = below(16), n = below(12);
+            call = "saying(" + kind + ", " + word + ", " + n + ")";
+            due(x.saying(kind, word, n), m.saying(kind, word, n));
+        }
+        for (int i = 0; i < 21; i++) {
+            int thing = below(things), k = 1 + below(6);
+            call = "made(" + thing + ", " + k + ")";
+            due(x.made(thing, k), m.made(thing, k));
         }
         digest();
         return wrong;

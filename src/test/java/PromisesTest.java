@@ -38,6 +38,7 @@ public final class PromisesTest {
         astray();
         made();
         madeOften();
+        madeOfMany();
         head();
         hears();
         parts();
@@ -425,6 +426,28 @@ public final class PromisesTest {
         refused(15, "the 21st made(), outside", x, o -> o.made(3, 7), OUTSIDE);
         refused(15, "the 21st made(), unknown", x, o -> o.made(7, 7), UNKNOWN);
         due(15, "count(8)", x.count(8), 20);
+    }
+
+    private static void madeOfMany() {
+        MouthRiddles x = new MouthRiddles();
+        // Sayings 0 and 3 part thing 0 from all others, and so do 1 and 2; no other two sayings do.
+        for (int traits : new int[] {15, 3, 5, 10, 12}) x.thing(traits);
+        for (int word = 0; word < 4; word++) {
+            x.sense(word, word);
+            x.saying(SAYING, word, 0);
+        }
+        due(15, "of like pairs that of least bits", x.made(0, 6), 6);
+        MouthRiddles y = new MouthRiddles();
+        y.thing(3);
+        y.thing(1);
+        y.sense(0, 0);
+        y.sense(1, 1);
+        for (int i = 0; i < 19; i++) y.saying(SAYING, 0, 0);
+        y.saying(SAYING, 1, 0);
+        due(15, "the last of twenty sayings", y.made(0, 6), 1 << 19);
+        due(15, "nineteen that fit both", y.made(1, 6), NONE);
+        y.thing(3);
+        due(15, "twenty that fit both", y.made(0, 6), NONE);
     }
 
     private static void head() {
