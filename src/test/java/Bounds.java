@@ -10,7 +10,7 @@ import java.util.function.Supplier;
 import java.util.function.ToIntFunction;
 
 /** What the tests of boundary cases share: each names the sentence of the document that it holds to. */
-final class Bounds {
+abstract class Bounds {
     static final int NONE = MouthRiddles.NONE, UNKNOWN = MouthRiddles.UNKNOWN, OUTSIDE = MouthRiddles.OUTSIDE;
     static final int STATE = MouthRiddles.STATE, FULL = MouthRiddles.FULL;
     static final int MIN = Integer.MIN_VALUE, MAX = Integer.MAX_VALUE;
@@ -23,9 +23,6 @@ final class Bounds {
     private static final Map<Integer, List<String>> quoted = new TreeMap<>();
     private static String sentence = "";
     private static int wrong = 0;
-
-    private Bounds() {
-    }
 
     /** Begins the test of one sentence (or part of one) of a promise, told word by word. */
     static void says(int promise, String words) {

@@ -1,15 +1,9 @@
 import java.util.function.Supplier;
 
 /** Boundary cases of heads and tongues: promises 16 to 23, and the terms that they use. */
-final class BoundsOfHeads {
-    private static final int NONE = Bounds.NONE, UNKNOWN = Bounds.UNKNOWN, OUTSIDE = Bounds.OUTSIDE, FULL = Bounds.FULL;
-    private static final int MIN = Bounds.MIN, MAX = Bounds.MAX, TERMS = Bounds.TERMS;
-    private static final int SAYING = 0, PLAIN = 1, BORROWED = 2, FIGHTING = 3, COUNTED = 4, KNOWN = 5;
+final class BoundsOfHeads extends Bounds {
     private static final int[] NO_RIDDLE_OF_SOME = {-1, 7, 9, 10, MIN, MAX};
     private static final int[] NO_THING_OF_SOME = {-1, 5, 11, 12, 32, MIN, MAX};
-
-    private BoundsOfHeads() {
-    }
 
     static void all() {
         heads();
@@ -27,14 +21,6 @@ final class BoundsOfHeads {
         goesByKinds();
         goesRefused();
         nearest();
-    }
-
-    private static void says(int promise, String words) {
-        Bounds.says(promise, words);
-    }
-
-    private static void due(String call, long got, long want) {
-        Bounds.due(call, got, want);
     }
 
     /**
@@ -74,18 +60,18 @@ final class BoundsOfHeads {
         for (int head = 0; head < 6; head++) due("head(99, 0)", x.head(99, 0), head);
         says(16, "OUTSIDE: plain, turned");
         for (int speed : new int[] {-1, 100, MIN, MAX}) {
-            Bounds.refused(Fires::some, "head(" + speed + ", 0)", o -> o.head(speed, 0), OUTSIDE);
-            Bounds.refused(Fires::some, "head(0, " + speed + ")", o -> o.head(0, speed), OUTSIDE);
-            Bounds.refused(Fires::empty, "head(" + speed + ", " + speed + ")", o -> o.head(speed, speed), OUTSIDE);
-            Bounds.refused(Fires::full, "head(" + speed + ", 99) where there are 6", o -> o.head(speed, 99), OUTSIDE);
-            Bounds.refused(Fires::full, "head(99, " + speed + ") where there are 6", o -> o.head(99, speed), OUTSIDE);
+            refused(Fires::some, "head(" + speed + ", 0)", o -> o.head(speed, 0), OUTSIDE);
+            refused(Fires::some, "head(0, " + speed + ")", o -> o.head(0, speed), OUTSIDE);
+            refused(Fires::empty, "head(" + speed + ", " + speed + ")", o -> o.head(speed, speed), OUTSIDE);
+            refused(Fires::full, "head(" + speed + ", 99) where there are 6", o -> o.head(speed, 99), OUTSIDE);
+            refused(Fires::full, "head(99, " + speed + ") where there are 6", o -> o.head(99, speed), OUTSIDE);
         }
         due("head(0, 0)", Fires.empty().head(0, 0), 0);
         due("head(99, 99)", Fires.some().head(99, 99), 3);
         says(16, "FULL");
         due("the 7th", x.head(0, 0), FULL);
-        Bounds.refused(Fires::full, "head(0, 0)", o -> o.head(0, 0), FULL);
-        Bounds.refused(Fires::full, "head(99, 99)", o -> o.head(99, 99), FULL);
+        refused(Fires::full, "head(0, 0)", o -> o.head(0, 0), FULL);
+        refused(Fires::full, "head(99, 99)", o -> o.head(99, 99), FULL);
     }
 
     // ---- promise 17
@@ -177,21 +163,21 @@ final class BoundsOfHeads {
 
     private static void hearsRefused() {
         says(17, "UNKNOWN");
-        Bounds.refused(Fires::empty, "hears(0, 0, 0)", o -> o.hears(0, 0, 0), UNKNOWN);
+        refused(Fires::empty, "hears(0, 0, 0)", o -> o.hears(0, 0, 0), UNKNOWN);
         for (int head : new int[] {-1, 3, 5, 6, MIN, MAX}) {
-            Bounds.refused(Fires::some, "hears(" + head + ", 0, 0)", o -> o.hears(head, 0, 0), UNKNOWN);
-            Bounds.refused(Fires::some, "hears(" + head + ", 0, 2), outside, too", o -> o.hears(head, 0, 2), UNKNOWN);
+            refused(Fires::some, "hears(" + head + ", 0, 0)", o -> o.hears(head, 0, 0), UNKNOWN);
+            refused(Fires::some, "hears(" + head + ", 0, 2), outside, too", o -> o.hears(head, 0, 2), UNKNOWN);
         }
         for (int riddle : NO_RIDDLE_OF_SOME) {
-            Bounds.refused(Fires::some, "hears(0, " + riddle + ", 0)", o -> o.hears(0, riddle, 0), UNKNOWN);
-            Bounds.refused(Fires::some, "hears(0, " + riddle + ", -1), outside, too", o -> o.hears(0, riddle, -1), UNKNOWN);
+            refused(Fires::some, "hears(0, " + riddle + ", 0)", o -> o.hears(0, riddle, 0), UNKNOWN);
+            refused(Fires::some, "hears(0, " + riddle + ", -1), outside, too", o -> o.hears(0, riddle, -1), UNKNOWN);
         }
-        Bounds.refused(Fires::full, "hears(6, 0, 0)", o -> o.hears(6, 0, 0), UNKNOWN);
-        Bounds.refused(Fires::full, "hears(0, 10, 0)", o -> o.hears(0, 10, 0), UNKNOWN);
+        refused(Fires::full, "hears(6, 0, 0)", o -> o.hears(6, 0, 0), UNKNOWN);
+        refused(Fires::full, "hears(0, 10, 0)", o -> o.hears(0, 10, 0), UNKNOWN);
         says(17, "OUTSIDE");
         for (int what : new int[] {-1, 2, MIN, MAX}) {
-            Bounds.refused(Fires::some, "hears(0, 0, " + what + ")", o -> o.hears(0, 0, what), OUTSIDE);
-            Bounds.refused(Fires::full, "hears(5, 9, " + what + ")", o -> o.hears(5, 9, what), OUTSIDE);
+            refused(Fires::some, "hears(0, 0, " + what + ")", o -> o.hears(0, 0, what), OUTSIDE);
+            refused(Fires::full, "hears(5, 9, " + what + ")", o -> o.hears(5, 9, what), OUTSIDE);
         }
     }
 
@@ -247,19 +233,19 @@ final class BoundsOfHeads {
         says(18, "NONE: there is no RIDDLE.");
         for (int what = 0; what < 2; what++) {
             int asked = what;
-            Bounds.asked(Fires::empty, "parts(" + what + ")", o -> o.parts(asked), NONE);
+            asked(Fires::empty, "parts(" + what + ")", o -> o.parts(asked), NONE);
             Supplier<MouthRiddles> headsAlone = () -> {
                 MouthRiddles x = Fires.empty();
                 x.head(1, 1);
                 x.head(2, 2);
                 return x;
             };
-            Bounds.asked(headsAlone, "parts(" + what + ") with heads", o -> o.parts(asked), NONE);
+            asked(headsAlone, "parts(" + what + ") with heads", o -> o.parts(asked), NONE);
         }
         says(18, "OUTSIDE");
         for (int what : new int[] {-1, 2, MIN, MAX}) {
-            Bounds.refused(Fires::empty, "parts(" + what + ") without riddles", o -> o.parts(what), OUTSIDE);
-            Bounds.refused(Fires::some, "parts(" + what + ")", o -> o.parts(what), OUTSIDE);
+            refused(Fires::empty, "parts(" + what + ") without riddles", o -> o.parts(what), OUTSIDE);
+            refused(Fires::some, "parts(" + what + ")", o -> o.parts(what), OUTSIDE);
         }
     }
 
@@ -280,11 +266,11 @@ final class BoundsOfHeads {
         due("none ever answers", x.blind(riddleOf(x, 0, 1), 0), 6);
         due("a thing of no traits", x.blind(0, 3), 6);
         says(19, "UNKNOWN");
-        Bounds.refused(Fires::empty, "blind(0, 0)", o -> o.blind(0, 0), UNKNOWN);
-        for (int riddle : NO_RIDDLE_OF_SOME) Bounds.refused(Fires::some, "blind(" + riddle + ", 0)", o -> o.blind(riddle, 0), UNKNOWN);
-        for (int thing : NO_THING_OF_SOME) Bounds.refused(Fires::some, "blind(0, " + thing + ")", o -> o.blind(0, thing), UNKNOWN);
-        Bounds.refused(Fires::full, "blind(10, 0)", o -> o.blind(10, 0), UNKNOWN);
-        Bounds.refused(Fires::full, "blind(0, 12)", o -> o.blind(0, 12), UNKNOWN);
+        refused(Fires::empty, "blind(0, 0)", o -> o.blind(0, 0), UNKNOWN);
+        for (int riddle : NO_RIDDLE_OF_SOME) refused(Fires::some, "blind(" + riddle + ", 0)", o -> o.blind(riddle, 0), UNKNOWN);
+        for (int thing : NO_THING_OF_SOME) refused(Fires::some, "blind(0, " + thing + ")", o -> o.blind(0, thing), UNKNOWN);
+        refused(Fires::full, "blind(10, 0)", o -> o.blind(10, 0), UNKNOWN);
+        refused(Fires::full, "blind(0, 12)", o -> o.blind(0, 12), UNKNOWN);
     }
 
     // ---- promise 20
@@ -313,7 +299,7 @@ final class BoundsOfHeads {
         due("it has senses that come later, too", z.goes(0, 0, 0, 0), 1);
         says(20, "FULL");
         due("the 5th", x.tongue(), FULL);
-        Bounds.refused(Fires::full, "the 5th", o -> o.tongue(), FULL);
+        refused(Fires::full, "the 5th", o -> o.tongue(), FULL);
     }
 
     // ---- promise 21
@@ -342,20 +328,20 @@ final class BoundsOfHeads {
 
     private static void lacksRefused() {
         says(21, "UNKNOWN: tongue, word");
-        Bounds.refused(Fires::empty, "lack(0, 0, 0, true)", o -> o.lack(0, 0, 0, true), UNKNOWN);
+        refused(Fires::empty, "lack(0, 0, 0, true)", o -> o.lack(0, 0, 0, true), UNKNOWN);
         for (int tongue : new int[] {-1, 2, 3, 4, MIN, MAX}) {
-            Bounds.refused(Fires::some, "lack(" + tongue + ", 0, 0, true)", o -> o.lack(tongue, 0, 0, true), UNKNOWN);
-            Bounds.refused(Fires::some, "lack(" + tongue + ", 0, 3, true), outside, too", o -> o.lack(tongue, 0, 3, true), UNKNOWN);
+            refused(Fires::some, "lack(" + tongue + ", 0, 0, true)", o -> o.lack(tongue, 0, 0, true), UNKNOWN);
+            refused(Fires::some, "lack(" + tongue + ", 0, 3, true), outside, too", o -> o.lack(tongue, 0, 3, true), UNKNOWN);
         }
         for (int word : new int[] {-1, 16, MIN, MAX}) {
-            Bounds.refused(Fires::some, "lack(0, " + word + ", 0, true)", o -> o.lack(0, word, 0, true), UNKNOWN);
-            Bounds.refused(Fires::full, "lack(3, " + word + ", -1, false), outside, too", o -> o.lack(3, word, -1, false), UNKNOWN);
+            refused(Fires::some, "lack(0, " + word + ", 0, true)", o -> o.lack(0, word, 0, true), UNKNOWN);
+            refused(Fires::full, "lack(3, " + word + ", -1, false), outside, too", o -> o.lack(3, word, -1, false), UNKNOWN);
         }
-        Bounds.refused(Fires::full, "lack(4, 0, 0, true)", o -> o.lack(4, 0, 0, true), UNKNOWN);
+        refused(Fires::full, "lack(4, 0, 0, true)", o -> o.lack(4, 0, 0, true), UNKNOWN);
         says(21, "OUTSIDE: i");
         for (int i : new int[] {-1, 3, 32, MIN, MAX}) {
-            Bounds.refused(Fires::some, "lack(1, 0, " + i + ", true)", o -> o.lack(1, 0, i, true), OUTSIDE);
-            Bounds.refused(Fires::full, "lack(3, 15, " + i + ", false)", o -> o.lack(3, 15, i, false), OUTSIDE);
+            refused(Fires::some, "lack(1, 0, " + i + ", true)", o -> o.lack(1, 0, i, true), OUTSIDE);
+            refused(Fires::full, "lack(3, 15, " + i + ", false)", o -> o.lack(3, 15, i, false), OUTSIDE);
         }
     }
 
@@ -419,26 +405,26 @@ final class BoundsOfHeads {
 
     private static void goesRefused() {
         says(22, "UNKNOWN");
-        Bounds.refused(Fires::empty, "goes(0, 0, 0, 0)", o -> o.goes(0, 0, 0, 0), UNKNOWN);
+        refused(Fires::empty, "goes(0, 0, 0, 0)", o -> o.goes(0, 0, 0, 0), UNKNOWN);
         for (int riddle : NO_RIDDLE_OF_SOME) {
-            Bounds.refused(Fires::some, "goes(" + riddle + ", 0, 0, 0)", o -> o.goes(riddle, 0, 0, 0), UNKNOWN);
-            Bounds.refused(Fires::some, "goes(" + riddle + ", 0, 0, 2), outside, too", o -> o.goes(riddle, 0, 0, 2), UNKNOWN);
+            refused(Fires::some, "goes(" + riddle + ", 0, 0, 0)", o -> o.goes(riddle, 0, 0, 0), UNKNOWN);
+            refused(Fires::some, "goes(" + riddle + ", 0, 0, 2), outside, too", o -> o.goes(riddle, 0, 0, 2), UNKNOWN);
         }
         for (int thing : NO_THING_OF_SOME) {
-            Bounds.refused(Fires::some, "goes(0, " + thing + ", 0, 1)", o -> o.goes(0, thing, 0, 1), UNKNOWN);
-            Bounds.refused(Fires::some, "goes(0, " + thing + ", 0, -1), outside, too", o -> o.goes(0, thing, 0, -1), UNKNOWN);
+            refused(Fires::some, "goes(0, " + thing + ", 0, 1)", o -> o.goes(0, thing, 0, 1), UNKNOWN);
+            refused(Fires::some, "goes(0, " + thing + ", 0, -1), outside, too", o -> o.goes(0, thing, 0, -1), UNKNOWN);
         }
         for (int tongue : new int[] {-1, 2, 3, 4, MIN, MAX}) {
-            Bounds.refused(Fires::some, "goes(0, 0, " + tongue + ", 0)", o -> o.goes(0, 0, tongue, 0), UNKNOWN);
-            Bounds.refused(Fires::some, "goes(0, 0, " + tongue + ", 2), outside, too", o -> o.goes(0, 0, tongue, 2), UNKNOWN);
+            refused(Fires::some, "goes(0, 0, " + tongue + ", 0)", o -> o.goes(0, 0, tongue, 0), UNKNOWN);
+            refused(Fires::some, "goes(0, 0, " + tongue + ", 2), outside, too", o -> o.goes(0, 0, tongue, 2), UNKNOWN);
         }
-        Bounds.refused(Fires::full, "goes(10, 11, 3, 0)", o -> o.goes(10, 11, 3, 0), UNKNOWN);
-        Bounds.refused(Fires::full, "goes(9, 12, 3, 0)", o -> o.goes(9, 12, 3, 0), UNKNOWN);
-        Bounds.refused(Fires::full, "goes(9, 11, 4, 0)", o -> o.goes(9, 11, 4, 0), UNKNOWN);
+        refused(Fires::full, "goes(10, 11, 3, 0)", o -> o.goes(10, 11, 3, 0), UNKNOWN);
+        refused(Fires::full, "goes(9, 12, 3, 0)", o -> o.goes(9, 12, 3, 0), UNKNOWN);
+        refused(Fires::full, "goes(9, 11, 4, 0)", o -> o.goes(9, 11, 4, 0), UNKNOWN);
         says(22, "OUTSIDE");
         for (int what : new int[] {-1, 2, MIN, MAX}) {
-            Bounds.refused(Fires::some, "goes(0, 0, 0, " + what + ")", o -> o.goes(0, 0, 0, what), OUTSIDE);
-            Bounds.refused(Fires::full, "goes(9, 11, 3, " + what + ")", o -> o.goes(9, 11, 3, what), OUTSIDE);
+            refused(Fires::some, "goes(0, 0, 0, " + what + ")", o -> o.goes(0, 0, 0, what), OUTSIDE);
+            refused(Fires::full, "goes(9, 11, 3, " + what + ")", o -> o.goes(9, 11, 3, what), OUTSIDE);
         }
     }
 
@@ -463,17 +449,17 @@ final class BoundsOfHeads {
         x.lack(0, 1, 1, true);
         due("the only one that lacks saying 1, too", x.nearest(0, 1), 1);
         says(23, "NONE: there is no TONGUE.");
-        Bounds.asked(BoundsOfHeads::bySense, "nearest(0, 0)", o -> o.nearest(0, 0), NONE);
+        asked(BoundsOfHeads::bySense, "nearest(0, 0)", o -> o.nearest(0, 0), NONE);
         MouthRiddles one = bySense();
         one.tongue();
         due("one tongue", one.nearest(0, 3), 0);
         says(23, "UNKNOWN");
-        Bounds.refused(Fires::empty, "nearest(0, 0)", o -> o.nearest(0, 0), UNKNOWN);
-        Bounds.refused(BoundsOfHeads::bySense, "nearest(4, 0), without a tongue, too", o -> o.nearest(4, 0), UNKNOWN);
-        Bounds.refused(BoundsOfHeads::bySense, "nearest(0, 4), without a tongue, too", o -> o.nearest(0, 4), UNKNOWN);
-        for (int riddle : NO_RIDDLE_OF_SOME) Bounds.refused(Fires::some, "nearest(" + riddle + ", 0)", o -> o.nearest(riddle, 0), UNKNOWN);
-        for (int thing : NO_THING_OF_SOME) Bounds.refused(Fires::some, "nearest(0, " + thing + ")", o -> o.nearest(0, thing), UNKNOWN);
-        Bounds.refused(Fires::full, "nearest(10, 0)", o -> o.nearest(10, 0), UNKNOWN);
-        Bounds.refused(Fires::full, "nearest(0, 12)", o -> o.nearest(0, 12), UNKNOWN);
+        refused(Fires::empty, "nearest(0, 0)", o -> o.nearest(0, 0), UNKNOWN);
+        refused(BoundsOfHeads::bySense, "nearest(4, 0), without a tongue, too", o -> o.nearest(4, 0), UNKNOWN);
+        refused(BoundsOfHeads::bySense, "nearest(0, 4), without a tongue, too", o -> o.nearest(0, 4), UNKNOWN);
+        for (int riddle : NO_RIDDLE_OF_SOME) refused(Fires::some, "nearest(" + riddle + ", 0)", o -> o.nearest(riddle, 0), UNKNOWN);
+        for (int thing : NO_THING_OF_SOME) refused(Fires::some, "nearest(0, " + thing + ")", o -> o.nearest(0, thing), UNKNOWN);
+        refused(Fires::full, "nearest(10, 0)", o -> o.nearest(10, 0), UNKNOWN);
+        refused(Fires::full, "nearest(0, 12)", o -> o.nearest(0, 12), UNKNOWN);
     }
 }

@@ -1,14 +1,8 @@
 /** Boundary cases of the page, the tree and the lands: promises 24 to 30, and the terms that they use. */
-final class BoundsOfLands {
-    private static final int NONE = Bounds.NONE, UNKNOWN = Bounds.UNKNOWN, OUTSIDE = Bounds.OUTSIDE;
-    private static final int STATE = Bounds.STATE, FULL = Bounds.FULL;
-    private static final int MIN = Bounds.MIN, MAX = Bounds.MAX, TERMS = Bounds.TERMS;
+final class BoundsOfLands extends Bounds {
     private static final String FORTY = "((((((((((((((((((((((((((((((((((((((((";
     private static final String CHAIN = "(a,(b,(c,(d,(e,(f,(g,h)))))))";
     private static final String EIGHT = "((a,b,c,d),(e,f,g,h)";
-
-    private BoundsOfLands() {
-    }
 
     static void all() {
         letters();
@@ -25,20 +19,13 @@ final class BoundsOfLands {
         variantsRefused();
         changes();
         sure();
+        sureOfMany();
         numbersOfNodes();
         changesRefused();
         chance();
         chanceOfLandsThatHaveNone();
         chanceRefused();
         chanceTwelve();
-    }
-
-    private static void says(int promise, String words) {
-        Bounds.says(promise, words);
-    }
-
-    private static void due(String call, long got, long want) {
-        Bounds.due(call, got, want);
     }
 
     // ---- promise 24
@@ -62,7 +49,7 @@ final class BoundsOfLands {
         due("behind the others", y.fault(), 2);
         MouthRiddles z = Fires.empty();
         z.letters(0x0102030405060708L);
-        due("digest()", z.digest(), Bounds.hash(-1, -1, -1, -1, -1, -1, -1, -1, 8, 7, 6, 5, 4, 3, 2, 1, 0, 0, 0, 0, 0, 0, 0, 8, 0, 0));
+        due("digest()", z.digest(), hash(-1, -1, -1, -1, -1, -1, -1, -1, 8, 7, 6, 5, 4, 3, 2, 1, 0, 0, 0, 0, 0, 0, 0, 8, 0, 0));
     }
 
     private static void lettersOutside() {
@@ -71,19 +58,19 @@ final class BoundsOfLands {
             long ahead = Fires.word("((((((((".substring(0, place));
             for (long code : new long[] {127, 128, 129, 254, 255}) {
                 long w = ahead | code << 8 * place;
-                Bounds.refused(Fires::some, "code " + code + " at " + place, o -> o.letters(w), OUTSIDE);
-                Bounds.refused(Fires::full, "code " + code + " at " + place + ", of 40", o -> o.letters(w), OUTSIDE);
+                refused(Fires::some, "code " + code + " at " + place, o -> o.letters(w), OUTSIDE);
+                refused(Fires::full, "code " + code + " at " + place + ", of 40", o -> o.letters(w), OUTSIDE);
             }
             for (int later = place + 1; later < 8; later++) {
                 long w = ahead | 1L << 8 * later;
-                Bounds.refused(Fires::empty, "a 0 at " + place + ", a letter at " + later, o -> o.letters(w), OUTSIDE);
+                refused(Fires::empty, "a 0 at " + place + ", a letter at " + later, o -> o.letters(w), OUTSIDE);
                 long v = ahead | 200L << 8 * later;
-                Bounds.refused(Fires::empty, "a 0 at " + place + ", 200 at " + later, o -> o.letters(v), OUTSIDE);
+                refused(Fires::empty, "a 0 at " + place + ", 200 at " + later, o -> o.letters(v), OUTSIDE);
             }
             due("126 at " + place, Fires.empty().letters(ahead | 126L << 8 * place), place + 1);
         }
         for (long w : new long[] {-1, Long.MIN_VALUE, Long.MAX_VALUE, 1L << 56, 1L << 32, 256}) {
-            Bounds.refused(Fires::some, "letters(" + w + ")", o -> o.letters(w), OUTSIDE);
+            refused(Fires::some, "letters(" + w + ")", o -> o.letters(w), OUTSIDE);
         }
     }
 
@@ -93,10 +80,10 @@ final class BoundsOfLands {
             long w = Fires.word("abcdefgh".substring(0, n));
             String upTo = FORTY.substring(n);
             due("40 with " + n + " more", Fires.ofPage(upTo).letters(w), 40);
-            Bounds.refused(() -> Fires.ofPage("(" + upTo), "41 with " + n + " more", o -> o.letters(w), FULL);
-            Bounds.refused(Fires::full, n + " above 40", o -> o.letters(w), FULL);
+            refused(() -> Fires.ofPage("(" + upTo), "41 with " + n + " more", o -> o.letters(w), FULL);
+            refused(Fires::full, n + " above 40", o -> o.letters(w), FULL);
         }
-        Bounds.asked(Fires::full, "none above 40", o -> o.letters(0), 40);
+        asked(Fires::full, "none above 40", o -> o.letters(0), 40);
         due("count(7)", Fires.full().count(7), 40);
     }
 
@@ -104,7 +91,7 @@ final class BoundsOfLands {
 
     private static void blank() {
         says(25, "THE PAGE is empty: how many letters it had.");
-        Bounds.asked(Fires::empty, "blank() of an empty page", o -> o.blank(), 0);
+        asked(Fires::empty, "blank() of an empty page", o -> o.blank(), 0);
         MouthRiddles x = Fires.full();
         due("blank() of a full page", x.blank(), 40);
         due("blank() again", x.blank(), 0);
@@ -169,12 +156,12 @@ final class BoundsOfLands {
 
     private static void faultOfFirst() {
         says(26, "how many letters it has, if there is none.");
-        Bounds.asked(Fires::empty, "fault() of an empty page", o -> o.fault(), 0);
-        Bounds.asked(Fires::some, "fault() of a page that goes on", o -> o.fault(), 5);
+        asked(Fires::empty, "fault() of an empty page", o -> o.fault(), 0);
+        asked(Fires::some, "fault() of a page that goes on", o -> o.fault(), 5);
         due("fault() of a whole tree", Fires.ofPage(Fires.LARGEST).fault(), 29);
         due("fault() of 40", Fires.ofPage(FORTY).fault(), 40);
         says(26, "The place (from 0) of the first letter of THE PAGE that no TREE");
-        Bounds.asked(Fires::full, "fault() of a tree and more", o -> o.fault(), 29);
+        asked(Fires::full, "fault() of a tree and more", o -> o.fault(), 29);
         due("several faults", Fires.ofPage("(a,a,a").fault(), 3);
         due("a fault, then a tree", Fires.ofPage("i(a,b)").fault(), 0);
         due("the last of 40", Fires.ofPage(FORTY.substring(1) + ",").fault(), 39);
@@ -212,14 +199,14 @@ final class BoundsOfLands {
 
     private static void noTrees() {
         says(27, "STATE: it is none.");
-        Bounds.refused(Fires::empty, "tree() of an empty page", o -> o.tree(), STATE);
-        Bounds.refused(Fires::some, "tree() of a part", o -> o.tree(), STATE);
-        Bounds.refused(Fires::full, "tree() of a tree and more", o -> o.tree(), STATE);
+        refused(Fires::empty, "tree() of an empty page", o -> o.tree(), STATE);
+        refused(Fires::some, "tree() of a part", o -> o.tree(), STATE);
+        refused(Fires::full, "tree() of a tree and more", o -> o.tree(), STATE);
         String[] texts = {"i", "A", "`", "(", ")", ",", "aa", "ab", "a,b", "()", "(a)", "(a", "(a,", "(a,b", "(a,b)c", "(a,b),", "(a,b))",
             "(a,a)", "(a,(b,a))", "(a,b,c,d,e)", "(a,,b)", "(,a,b)", "(a,b,)", "((a,b))", "(a b)", " (a,b)", EIGHT, EIGHT + ",i)", EIGHT + ",a)", FORTY};
         for (String text : texts) {
-            Bounds.refused(() -> Fires.ofPage(text), "tree() of " + text, o -> o.tree(), STATE);
-            Bounds.refused(() -> treeAndPage(text), "tree() of " + text + " behind a tree", o -> o.tree(), STATE);
+            refused(() -> Fires.ofPage(text), "tree() of " + text, o -> o.tree(), STATE);
+            refused(() -> treeAndPage(text), "tree() of " + text + " behind a tree", o -> o.tree(), STATE);
         }
     }
 
@@ -277,14 +264,14 @@ final class BoundsOfLands {
     private static void variantsRefused() {
         says(28, "UNKNOWN: land");
         for (int land : new int[] {-1, 8, MIN, MAX}) {
-            Bounds.refused(Fires::some, "variant(" + land + ", 0)", o -> o.variant(land, 0), UNKNOWN);
-            Bounds.refused(Fires::full, "variant(" + land + ", 8), outside, too", o -> o.variant(land, 8), UNKNOWN);
-            Bounds.refused(Fires::empty, "variant(" + land + ", -2), outside, too", o -> o.variant(land, -2), UNKNOWN);
+            refused(Fires::some, "variant(" + land + ", 0)", o -> o.variant(land, 0), UNKNOWN);
+            refused(Fires::full, "variant(" + land + ", 8), outside, too", o -> o.variant(land, 8), UNKNOWN);
+            refused(Fires::empty, "variant(" + land + ", -2), outside, too", o -> o.variant(land, -2), UNKNOWN);
         }
         says(28, "OUTSIDE");
         for (int v : new int[] {-2, 8, MIN, MAX}) {
-            Bounds.refused(Fires::empty, "variant(0, " + v + ")", o -> o.variant(0, v), OUTSIDE);
-            Bounds.refused(Fires::full, "variant(7, " + v + ")", o -> o.variant(7, v), OUTSIDE);
+            refused(Fires::empty, "variant(0, " + v + ")", o -> o.variant(0, v), OUTSIDE);
+            refused(Fires::full, "variant(7, " + v + ")", o -> o.variant(7, v), OUTSIDE);
         }
     }
 
@@ -333,6 +320,23 @@ final class BoundsOfLands {
         sures(Fires.ofTree(Fires.LARGEST, 0, 1, 2, 3, 4, 5, 6, 7), 7, NONE, NONE, NONE, 0, 1, NONE, 2, 3, NONE, NONE, 4, 5, NONE, 6, 7);
     }
 
+    /** Trees of eight lands, some without a variant; what is sure was worked out by a program apart from this one. */
+    private static void sureOfMany() {
+        says(TERMS, "SURE of a NODE: the VARIANT that it has in all ways of LEAST CHANGES");
+        sures(Fires.ofTree(Fires.LARGEST, 3, 0, 3, NONE, 2, 2, NONE, 1), 3, NONE, 3, 3, 3, 0, 3, 3, 3, NONE, 2, 2, 2, NONE, NONE, 1);
+        sures(Fires.ofTree(Fires.LARGEST, 1, 0, 0, 0, 1, NONE, 1, 0), 3, NONE, NONE, NONE, 1, 0, 0, 0, 0, NONE, NONE, 1, NONE, NONE, 1, 0);
+        sures(Fires.ofTree(Fires.LARGEST, 0, 0, 1, 0, 0, 0, NONE, 0), 1, 0, 0, 0, 0, 0, 0, 1, 0, 0, 0, 0, 0, 0, 0, 0);
+        sures(Fires.ofTree(CHAIN, 2, 1, 1, NONE, NONE, 2, 2, 1), 3, NONE, 2, NONE, 1, NONE, 1, NONE, NONE, NONE, NONE, NONE, 2, NONE, 2, 1);
+        sures(Fires.ofTree(CHAIN, 1, 1, 0, 1, 0, 0, 0, 0), 2, 1, 1, 1, 1, NONE, 0, NONE, 1, 0, 0, 0, 0, 0, 0, 0);
+        sures(Fires.ofTree(CHAIN, NONE, 1, 2, 0, 0, 1, NONE, 1), 3, NONE, NONE, NONE, 1, NONE, 2, NONE, 0, NONE, 0, 1, 1, 1, 1, 1);
+        sures(Fires.ofTree(EIGHT + ")", 2, 0, 0, NONE, 0, 1, 1, 1), 3, NONE, 0, 2, 0, 0, 0, 1, 0, 1, 1, 1);
+        sures(Fires.ofTree(EIGHT + ")", 1, 1, 1, 0, 1, 0, 0, 0), 3, NONE, 1, 1, 1, 1, 0, 0, 1, 0, 0, 0);
+        sures(Fires.ofTree(EIGHT + ")", 1, NONE, 3, NONE, 0, 1, NONE, 3), 3, NONE, NONE, 1, NONE, 3, NONE, NONE, 0, 1, NONE, 3);
+        sures(Fires.ofTree("((a,(b,c)),(d,e,(f,(g,h))))", 1, 2, 0, 2, NONE, 2, NONE, 1), 3, 2, 2, 1, 2, 2, 0, 2, 2, 2, 2, 2, NONE, NONE, 1);
+        sures(Fires.ofTree("((a,(b,c)),(d,e,(f,(g,h))))", 1, 0, NONE, 0, 0, 1, 1, 1), 2, 0, 0, 1, 0, 0, 0, 0, 0, 0, 1, 1, 1, 1, 1);
+        sures(Fires.ofTree("((a,(b,c)),(d,e,(f,(g,h))))", 3, 2, 0, 0, 3, NONE, 1, 0), 4, 0, 0, 3, 0, 2, 0, 0, 0, 3, 0, 0, 0, 1, 0);
+    }
+
     private static void numbersOfNodes() {
         says(TERMS, "NODES are numbered as they begin in the text, from 0.");
         sures(Fires.ofTree("((h,c),(b,(g,a)),e)", 0, 1, 2, 3, 4, 5, 6, 7), 5, NONE, NONE, 7, 2, NONE, 1, NONE, 6, 0, 4);
@@ -354,14 +358,14 @@ final class BoundsOfLands {
     private static void changesRefused() {
         says(29, "OUTSIDE: what (10 to 39 else)");
         for (int what : new int[] {-1, 1, 2, 3, 4, 5, 6, 7, 8, 9, 40, 41, MIN, MAX}) {
-            Bounds.refused(Fires::some, "changes(" + what + ")", o -> o.changes(what), OUTSIDE);
-            Bounds.refused(Fires::empty, "changes(" + what + ") without a tree", o -> o.changes(what), OUTSIDE);
+            refused(Fires::some, "changes(" + what + ")", o -> o.changes(what), OUTSIDE);
+            refused(Fires::empty, "changes(" + what + ") without a tree", o -> o.changes(what), OUTSIDE);
         }
         says(29, "STATE: there is no TREE.");
         for (int what : new int[] {0, 10, 11, 24, 39}) {
-            Bounds.refused(Fires::empty, "changes(" + what + ")", o -> o.changes(what), STATE);
-            Bounds.refused(() -> Fires.ofPage("(a,b)"), "changes(" + what + ") of a page", o -> o.changes(what), STATE);
-            Bounds.refused(() -> faulted("a"), "changes(" + what + ") behind fault()", o -> o.changes(what), STATE);
+            refused(Fires::empty, "changes(" + what + ")", o -> o.changes(what), STATE);
+            refused(() -> Fires.ofPage("(a,b)"), "changes(" + what + ") of a page", o -> o.changes(what), STATE);
+            refused(() -> faulted("a"), "changes(" + what + ") behind fault()", o -> o.changes(what), STATE);
         }
     }
 
@@ -418,23 +422,23 @@ final class BoundsOfLands {
     private static void chanceRefused() {
         says(30, "OUTSIDE");
         for (int part : new int[] {-1, 2, MIN, MAX}) {
-            Bounds.refused(Fires::some, "chance(" + part + ")", o -> o.chance(part), OUTSIDE);
-            Bounds.refused(Fires::empty, "chance(" + part + ") without a tree", o -> o.chance(part), OUTSIDE);
-            Bounds.refused(Fires::full, "chance(" + part + "), done 12 times", o -> o.chance(part), OUTSIDE);
+            refused(Fires::some, "chance(" + part + ")", o -> o.chance(part), OUTSIDE);
+            refused(Fires::empty, "chance(" + part + ") without a tree", o -> o.chance(part), OUTSIDE);
+            refused(Fires::full, "chance(" + part + "), done 12 times", o -> o.chance(part), OUTSIDE);
         }
         says(30, "STATE: there is no TREE, or");
         for (int part = 0; part < 2; part++) {
             int asked = part;
-            Bounds.refused(Fires::empty, "chance(" + part + ")", o -> o.chance(asked), STATE);
-            Bounds.refused(() -> Fires.ofPage("(a,b)"), "chance(" + part + ") of a page", o -> o.chance(asked), STATE);
-            Bounds.refused(() -> faulted("a"), "chance(" + part + ") behind fault()", o -> o.chance(asked), STATE);
+            refused(Fires::empty, "chance(" + part + ")", o -> o.chance(asked), STATE);
+            refused(() -> Fires.ofPage("(a,b)"), "chance(" + part + ") of a page", o -> o.chance(asked), STATE);
+            refused(() -> faulted("a"), "chance(" + part + ") behind fault()", o -> o.chance(asked), STATE);
         }
     }
 
     private static void chanceTwelve() {
         says(30, "it was done 12 times.");
-        Bounds.refused(Fires::full, "chance(0), the 13th time", o -> o.chance(0), STATE);
-        Bounds.refused(Fires::full, "chance(1), the 13th time", o -> o.chance(1), STATE);
+        refused(Fires::full, "chance(0), the 13th time", o -> o.chance(0), STATE);
+        refused(Fires::full, "chance(1), the 13th time", o -> o.chance(1), STATE);
         MouthRiddles x = Fires.empty();
         due("without a tree it is not done", x.chance(0), STATE);
         Fires.write(x, "((a,b),(c,d))");

@@ -1,14 +1,8 @@
 import java.util.function.Supplier;
 
 /** Boundary cases of things, words and sayings: promises 1 to 7, and the terms that they use. */
-final class BoundsOfLore {
-    private static final int NONE = Bounds.NONE, UNKNOWN = Bounds.UNKNOWN, OUTSIDE = Bounds.OUTSIDE, FULL = Bounds.FULL;
-    private static final int MIN = Bounds.MIN, MAX = Bounds.MAX, TERMS = Bounds.TERMS;
-    private static final int SAYING = 0, PLAIN = 1, BORROWED = 2, FIGHTING = 3, COUNTED = 4, KNOWN = 5;
+final class BoundsOfLore extends Bounds {
     private static final int ALL_TRAITS = 16777215;
-
-    private BoundsOfLore() {
-    }
 
     static void all() {
         newObject();
@@ -19,14 +13,6 @@ final class BoundsOfLore {
         kinds();
         fitting();
         fittingOfKinds();
-    }
-
-    private static void says(int promise, String words) {
-        Bounds.says(promise, words);
-    }
-
-    private static void due(String call, long got, long want) {
-        Bounds.due(call, got, want);
     }
 
     // ---- promise 1
@@ -40,6 +26,9 @@ final class BoundsOfLore {
         due("the first thing", x.thing(0), 0);
         due("the first sense", x.sense(0, 0), 1);
         due("a later object has none either", new MouthRiddles().count(0), 0);
+        MouthRiddles old = Fires.empty();
+        for (int call = 1; call < 512; call++) due("call " + call, old.count(call % 10), 0);
+        due("the 512th call", old.thing(16777215), 0);
     }
 
     // ---- promise 2
@@ -52,9 +41,9 @@ final class BoundsOfLore {
         for (int thing = 0; thing < 12; thing++) due("thing(0)", x.thing(0), thing);
         says(2, "OUTSIDE: traits (0 to 16777215)");
         for (int traits : new int[] {-1, ALL_TRAITS + 1, MIN, MAX}) {
-            Bounds.refused(Fires::empty, "thing(" + traits + ")", o -> o.thing(traits), OUTSIDE);
-            Bounds.refused(Fires::some, "thing(" + traits + ")", o -> o.thing(traits), OUTSIDE);
-            Bounds.refused(Fires::full, "thing(" + traits + ") where there are 12", o -> o.thing(traits), OUTSIDE);
+            refused(Fires::empty, "thing(" + traits + ")", o -> o.thing(traits), OUTSIDE);
+            refused(Fires::some, "thing(" + traits + ")", o -> o.thing(traits), OUTSIDE);
+            refused(Fires::full, "thing(" + traits + ") where there are 12", o -> o.thing(traits), OUTSIDE);
         }
         traitsTaken();
         says(2, "FULL");
@@ -63,8 +52,8 @@ final class BoundsOfLore {
         due("the 12th thing", y.thing(ALL_TRAITS), 11);
         due("the 13th thing", y.thing(1), FULL);
         due("count(0)", y.count(0), 12);
-        Bounds.refused(Fires::full, "the 13th thing", o -> o.thing(0), FULL);
-        Bounds.refused(Fires::full, "the 13th thing of all traits", o -> o.thing(ALL_TRAITS), FULL);
+        refused(Fires::full, "the 13th thing", o -> o.thing(0), FULL);
+        refused(Fires::full, "the 13th thing of all traits", o -> o.thing(ALL_TRAITS), FULL);
     }
 
     private static void loneTrait(int trait) {
@@ -83,7 +72,7 @@ final class BoundsOfLore {
         MouthRiddles x = Fires.empty();
         due("thing(0)", x.thing(0), 0);
         due("thing(16777215)", x.thing(ALL_TRAITS), 1);
-        due("digest()", x.digest(), Bounds.hash(0, ALL_TRAITS, -1, -1, -1, -1, -1, -1, -1, -1, 2, 0, 0, 0, 0, 0, 0, 0, 0, 0));
+        due("digest()", x.digest(), hash(0, ALL_TRAITS, -1, -1, -1, -1, -1, -1, -1, -1, 2, 0, 0, 0, 0, 0, 0, 0, 0, 0));
     }
 
     // ---- promise 3
@@ -97,9 +86,9 @@ final class BoundsOfLore {
         for (int i = 0; i < 3; i++) due("senseOf(7, " + i + ")", x.senseOf(7, i), 20 - 9 * i);
         says(3, "UNKNOWN: word");
         for (int word : new int[] {-1, 16, MIN, MAX}) {
-            Bounds.refused(Fires::some, "sense(" + word + ", 0)", o -> o.sense(word, 0), UNKNOWN);
-            Bounds.refused(Fires::full, "sense(" + word + ", 24), outside, too", o -> o.sense(word, 24), UNKNOWN);
-            Bounds.refused(Fires::empty, "sense(" + word + ", -1), outside, too", o -> o.sense(word, -1), UNKNOWN);
+            refused(Fires::some, "sense(" + word + ", 0)", o -> o.sense(word, 0), UNKNOWN);
+            refused(Fires::full, "sense(" + word + ", 24), outside, too", o -> o.sense(word, 24), UNKNOWN);
+            refused(Fires::empty, "sense(" + word + ", -1), outside, too", o -> o.sense(word, -1), UNKNOWN);
         }
         due("word 0", Fires.empty().sense(0, 0), 1);
         due("word 15", Fires.empty().sense(15, 0), 1);
@@ -110,26 +99,26 @@ final class BoundsOfLore {
     private static void traitOfSense() {
         says(3, "OUTSIDE: trait, or it has that already");
         for (int trait : new int[] {-1, 24, MIN, MAX}) {
-            Bounds.refused(Fires::empty, "sense(0, " + trait + ")", o -> o.sense(0, trait), OUTSIDE);
-            Bounds.refused(Fires::some, "sense(15, " + trait + ")", o -> o.sense(15, trait), OUTSIDE);
-            Bounds.refused(Fires::full, "sense(0, " + trait + ") where there are 3", o -> o.sense(0, trait), OUTSIDE);
+            refused(Fires::empty, "sense(0, " + trait + ")", o -> o.sense(0, trait), OUTSIDE);
+            refused(Fires::some, "sense(15, " + trait + ")", o -> o.sense(15, trait), OUTSIDE);
+            refused(Fires::full, "sense(0, " + trait + ") where there are 3", o -> o.sense(0, trait), OUTSIDE);
         }
         due("trait 0", Fires.empty().sense(0, 0), 1);
         due("trait 23", Fires.empty().sense(0, 23), 1);
-        Bounds.refused(Fires::some, "the only sense again", o -> o.sense(1, 3), OUTSIDE);
-        Bounds.refused(Fires::some, "the first of two again", o -> o.sense(15, 23), OUTSIDE);
-        Bounds.refused(Fires::some, "the second of two again", o -> o.sense(15, 0), OUTSIDE);
+        refused(Fires::some, "the only sense again", o -> o.sense(1, 3), OUTSIDE);
+        refused(Fires::some, "the first of two again", o -> o.sense(15, 23), OUTSIDE);
+        refused(Fires::some, "the second of two again", o -> o.sense(15, 0), OUTSIDE);
         for (int trait = 0; trait < 3; trait++) {
             int again = trait;
-            Bounds.refused(Fires::some, "one of three again, where it is full, too", o -> o.sense(0, again), OUTSIDE);
+            refused(Fires::some, "one of three again, where it is full, too", o -> o.sense(0, again), OUTSIDE);
         }
         due("a trait that only another word has", Fires.some().sense(2, 3), 1);
     }
 
     private static void sensesFull() {
         says(3, "FULL");
-        Bounds.refused(Fires::some, "a 4th sense", o -> o.sense(0, 3), FULL);
-        Bounds.refused(Fires::full, "a 4th sense of word 15", o -> o.sense(15, 4), FULL);
+        refused(Fires::some, "a 4th sense", o -> o.sense(0, 3), FULL);
+        refused(Fires::full, "a 4th sense of word 15", o -> o.sense(15, 4), FULL);
         due("a third sense", Fires.some().sense(15, 5), 3);
         MouthRiddles x = Fires.some();
         x.sense(0, 9);
@@ -147,17 +136,17 @@ final class BoundsOfLore {
             for (int i = 0; i < 3; i++) due("senseOf() at first", Fires.empty().senseOf(word, i), NONE);
         }
         says(4, "The i-th SENSE of a WORD: its TRAIT");
-        Bounds.asked(Fires::some, "senseOf(15, 0)", o -> o.senseOf(15, 0), 23);
-        Bounds.asked(Fires::some, "senseOf(15, 1)", o -> o.senseOf(15, 1), 0);
+        asked(Fires::some, "senseOf(15, 0)", o -> o.senseOf(15, 0), 23);
+        asked(Fires::some, "senseOf(15, 1)", o -> o.senseOf(15, 1), 0);
         says(4, "NONE");
-        Bounds.asked(Fires::some, "senseOf(15, 2), of two", o -> o.senseOf(15, 2), NONE);
-        Bounds.asked(Fires::some, "senseOf(0, 3), of three", o -> o.senseOf(0, 3), NONE);
-        Bounds.asked(Fires::some, "senseOf(2, 0), of none", o -> o.senseOf(2, 0), NONE);
-        for (int i : new int[] {-1, 4, MIN, MAX}) Bounds.asked(Fires::some, "senseOf(0, " + i + ")", o -> o.senseOf(0, i), NONE);
+        asked(Fires::some, "senseOf(15, 2), of two", o -> o.senseOf(15, 2), NONE);
+        asked(Fires::some, "senseOf(0, 3), of three", o -> o.senseOf(0, 3), NONE);
+        asked(Fires::some, "senseOf(2, 0), of none", o -> o.senseOf(2, 0), NONE);
+        for (int i : new int[] {-1, 4, MIN, MAX}) asked(Fires::some, "senseOf(0, " + i + ")", o -> o.senseOf(0, i), NONE);
         says(4, "UNKNOWN: word");
         for (int word : new int[] {-1, 16, MIN, MAX}) {
-            Bounds.refused(Fires::some, "senseOf(" + word + ", 0)", o -> o.senseOf(word, 0), UNKNOWN);
-            Bounds.refused(Fires::full, "senseOf(" + word + ", 3)", o -> o.senseOf(word, 3), UNKNOWN);
+            refused(Fires::some, "senseOf(" + word + ", 0)", o -> o.senseOf(word, 0), UNKNOWN);
+            refused(Fires::full, "senseOf(" + word + ", 3)", o -> o.senseOf(word, 3), UNKNOWN);
         }
     }
 
@@ -176,31 +165,31 @@ final class BoundsOfLore {
         sayingsOutside();
         says(5, "UNKNOWN: word");
         for (int word : new int[] {-1, 16, MIN, MAX}) {
-            Bounds.refused(Fires::empty, "saying(0, " + word + ", 0)", o -> o.saying(0, word, 0), UNKNOWN);
-            Bounds.refused(Fires::full, "saying(5, " + word + ", 23) where there are 20", o -> o.saying(5, word, 23), UNKNOWN);
+            refused(Fires::empty, "saying(0, " + word + ", 0)", o -> o.saying(0, word, 0), UNKNOWN);
+            refused(Fires::full, "saying(5, " + word + ", 23) where there are 20", o -> o.saying(5, word, 23), UNKNOWN);
         }
         says(5, "FULL");
         MouthRiddles y = Fires.empty();
         for (int number = 0; number < 19; number++) y.saying(0, 0, 0);
         due("the 20th", y.saying(0, 0, 0), 19);
         due("the 21st", y.saying(0, 0, 0), FULL);
-        Bounds.refused(Fires::full, "the 21st", o -> o.saying(5, 15, 23), FULL);
+        refused(Fires::full, "the 21st", o -> o.saying(5, 15, 23), FULL);
     }
 
     private static void sayingsOutside() {
         says(5, "OUTSIDE: kind, n");
         for (int kind : new int[] {-1, 6, MIN, MAX}) {
-            Bounds.refused(Fires::some, "saying(" + kind + ", 0, 0)", o -> o.saying(kind, 0, 0), OUTSIDE);
-            Bounds.refused(Fires::some, "saying(" + kind + ", 16, 0), unknown, too", o -> o.saying(kind, 16, 0), OUTSIDE);
-            Bounds.refused(Fires::full, "saying(" + kind + ", 0, 0) where there are 20", o -> o.saying(kind, 0, 0), OUTSIDE);
+            refused(Fires::some, "saying(" + kind + ", 0, 0)", o -> o.saying(kind, 0, 0), OUTSIDE);
+            refused(Fires::some, "saying(" + kind + ", 16, 0), unknown, too", o -> o.saying(kind, 16, 0), OUTSIDE);
+            refused(Fires::full, "saying(" + kind + ", 0, 0) where there are 20", o -> o.saying(kind, 0, 0), OUTSIDE);
         }
         for (int n : new int[] {-1, 24, MIN, MAX}) {
             for (int k = 0; k < 6; k++) {
                 int kind = k;
-                Bounds.refused(Fires::empty, "saying(" + kind + ", 0, " + n + ")", o -> o.saying(kind, 0, n), OUTSIDE);
+                refused(Fires::empty, "saying(" + kind + ", 0, " + n + ")", o -> o.saying(kind, 0, n), OUTSIDE);
             }
-            Bounds.refused(Fires::some, "saying(0, -1, " + n + "), unknown, too", o -> o.saying(0, -1, n), OUTSIDE);
-            Bounds.refused(Fires::full, "saying(0, 0, " + n + ") where there are 20", o -> o.saying(0, 0, n), OUTSIDE);
+            refused(Fires::some, "saying(0, -1, " + n + "), unknown, too", o -> o.saying(0, -1, n), OUTSIDE);
+            refused(Fires::full, "saying(0, 0, " + n + ") where there are 20", o -> o.saying(0, 0, n), OUTSIDE);
         }
     }
 
@@ -215,7 +204,7 @@ final class BoundsOfLore {
         says(6, "A SAYING taken as a KIND: its number");
         for (int own = 0; own < 6; own++) {
             int kind = own;
-            Bounds.asked(Fires::some, "as(" + own + ", " + own + ")", o -> o.as(kind, kind), own);
+            asked(Fires::some, "as(" + own + ", " + own + ")", o -> o.as(kind, kind), own);
         }
         due("the 20th as what it is", Fires.full().as(19, 1), 19);
         says(6, "NONE: it is none such (the cast fails).");
@@ -226,14 +215,14 @@ final class BoundsOfLore {
             }
         }
         says(6, "UNKNOWN");
-        Bounds.refused(Fires::empty, "as(0, 0)", o -> o.as(0, 0), UNKNOWN);
+        refused(Fires::empty, "as(0, 0)", o -> o.as(0, 0), UNKNOWN);
         for (int saying : new int[] {-1, 7, 19, 20, MIN, MAX}) {
-            Bounds.refused(Fires::some, "as(" + saying + ", 0)", o -> o.as(saying, 0), UNKNOWN);
-            Bounds.refused(Fires::some, "as(" + saying + ", 6), outside, too", o -> o.as(saying, 6), UNKNOWN);
+            refused(Fires::some, "as(" + saying + ", 0)", o -> o.as(saying, 0), UNKNOWN);
+            refused(Fires::some, "as(" + saying + ", 6), outside, too", o -> o.as(saying, 6), UNKNOWN);
         }
-        Bounds.refused(Fires::full, "as(20, 0)", o -> o.as(20, 0), UNKNOWN);
+        refused(Fires::full, "as(20, 0)", o -> o.as(20, 0), UNKNOWN);
         says(6, "OUTSIDE");
-        for (int kind : new int[] {-1, 6, MIN, MAX}) Bounds.refused(Fires::some, "as(0, " + kind + ")", o -> o.as(0, kind), OUTSIDE);
+        for (int kind : new int[] {-1, 6, MIN, MAX}) refused(Fires::some, "as(0, " + kind + ")", o -> o.as(0, kind), OUTSIDE);
     }
 
     // ---- promise 7
@@ -248,24 +237,24 @@ final class BoundsOfLore {
         says(7, "BY which SENSE a SAYING FITS a THING");
         row(Fires.some(), SAYING, 0, 1, 0, NONE, 0);
         says(7, "NONE: it does not.");
-        Bounds.asked(Fires::some, "fits(0, 3), a thing without traits", o -> o.fits(0, 3), NONE);
-        Bounds.asked(Fires::some, "fits(1, 1)", o -> o.fits(1, 1), NONE);
+        asked(Fires::some, "fits(0, 3), a thing without traits", o -> o.fits(0, 3), NONE);
+        asked(Fires::some, "fits(1, 1)", o -> o.fits(1, 1), NONE);
         says(7, "UNKNOWN");
-        Bounds.refused(Fires::empty, "fits(0, 0)", o -> o.fits(0, 0), UNKNOWN);
+        refused(Fires::empty, "fits(0, 0)", o -> o.fits(0, 0), UNKNOWN);
         for (int saying : new int[] {-1, 7, 20, MIN, MAX}) {
-            Bounds.refused(Fires::some, "fits(" + saying + ", 0)", o -> o.fits(saying, 0), UNKNOWN);
+            refused(Fires::some, "fits(" + saying + ", 0)", o -> o.fits(saying, 0), UNKNOWN);
         }
         for (int thing : new int[] {-1, 5, 12, 31, 32, MIN, MAX}) {
-            Bounds.refused(Fires::some, "fits(5, " + thing + ")", o -> o.fits(5, thing), UNKNOWN);
+            refused(Fires::some, "fits(5, " + thing + ")", o -> o.fits(5, thing), UNKNOWN);
         }
-        Bounds.refused(Fires::full, "fits(20, 0)", o -> o.fits(20, 0), UNKNOWN);
-        Bounds.refused(Fires::full, "fits(0, 12)", o -> o.fits(0, 12), UNKNOWN);
+        refused(Fires::full, "fits(20, 0)", o -> o.fits(20, 0), UNKNOWN);
+        refused(Fires::full, "fits(0, 12)", o -> o.fits(0, 12), UNKNOWN);
         Supplier<MouthRiddles> sayingAlone = () -> {
             MouthRiddles x = Fires.empty();
             x.saying(KNOWN, 0, 0);
             return x;
         };
-        Bounds.refused(sayingAlone, "fits(0, 0) without things", o -> o.fits(0, 0), UNKNOWN);
+        refused(sayingAlone, "fits(0, 0) without things", o -> o.fits(0, 0), UNKNOWN);
         says(TERMS, "BY is the least SENSE by which it fits.");
         row(allSubsets(SAYING), 0, NONE, 0, 1, 0, 2, 0, 1, 0);
         row(allSubsets(BORROWED), 0, NONE, NONE, 1, 1, 2, 2, 1, 1);

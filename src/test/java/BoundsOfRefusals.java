@@ -6,9 +6,7 @@ import java.util.function.ToIntFunction;
  * Every call with every mix of arguments at the edges, on an object with nothing, with something and with all
  * there may be of everything: the first refusal as the call tells them, and nothing changed by it.
  */
-final class BoundsOfRefusals {
-    private static final int UNKNOWN = Bounds.UNKNOWN, OUTSIDE = Bounds.OUTSIDE, STATE = Bounds.STATE, FULL = Bounds.FULL;
-    private static final int NONE = Bounds.NONE, MIN = Bounds.MIN, MAX = Bounds.MAX;
+final class BoundsOfRefusals extends Bounds {
     /** Not refused: the answer is free here, but it is no refusal. */
     private static final int TAKEN = 0;
     private static final int[] WORDS = {MIN, -1, 0, 2, 15, 16, MAX};
@@ -21,7 +19,7 @@ final class BoundsOfRefusals {
     private static final int[] TONGUES = {MIN, -1, 0, 1, 2, 3, 4, MAX};
 
     private final Supplier<MouthRiddles> made;
-    /** Things, senses of words 0 and 15, sayings, riddles, heads, tongues: how many there are. */
+    // How many there are of each.
     private final int things, sayings, riddles, heads, tongues;
     private final boolean full, bare;
 
@@ -37,7 +35,7 @@ final class BoundsOfRefusals {
     }
 
     static void all() {
-        Bounds.says(Bounds.TERMS, "Refusals, of several the first as told by each call: UNKNOWN (a number names nothing), "
+        says(TERMS, "Refusals, of several the first as told by each call: UNKNOWN (a number names nothing), "
             + "OUTSIDE (it is not as told), STATE (as told), FULL; they change nothing.");
         List<BoundsOfRefusals> states = List.of(
             new BoundsOfRefusals(Fires::empty, 0, 0, 0, 0, 0),
@@ -79,11 +77,11 @@ final class BoundsOfRefusals {
     private void call(String name, ToIntFunction<MouthRiddles> calling, int... refusals) {
         for (int refusal : refusals) {
             if (refusal != TAKEN) {
-                Bounds.refused(made, name, calling, refusal);
+                refused(made, name, calling, refusal);
                 return;
             }
         }
-        Bounds.due(name + " is refused", calling.applyAsInt(made.get()) < NONE ? 1 : 0, 0);
+        due(name + " is refused", calling.applyAsInt(made.get()) < NONE ? 1 : 0, 0);
     }
 
     private static String with(String name, Object... arguments) {

@@ -1,14 +1,7 @@
 /** Boundary cases of riddles: promises 8 to 15, and the terms that they use. */
-final class BoundsOfRiddles {
-    private static final int NONE = Bounds.NONE, UNKNOWN = Bounds.UNKNOWN, OUTSIDE = Bounds.OUTSIDE;
-    private static final int STATE = Bounds.STATE, FULL = Bounds.FULL;
-    private static final int MIN = Bounds.MIN, MAX = Bounds.MAX, TERMS = Bounds.TERMS;
-    private static final int SAYING = 0, PLAIN = 1, BORROWED = 2, FIGHTING = 3, COUNTED = 4, KNOWN = 5;
+final class BoundsOfRiddles extends Bounds {
     private static final int[] NO_RIDDLE_OF_SOME = {-1, 7, 9, 10, MIN, MAX};
     private static final int[] NO_THING_OF_SOME = {-1, 5, 11, 12, 32, MIN, MAX};
-
-    private BoundsOfRiddles() {
-    }
 
     static void all() {
         riddles();
@@ -22,16 +15,10 @@ final class BoundsOfRiddles {
         astrayRefused();
         made();
         madeOfLikeOnes();
+        madeOfTwenty();
+        madeOfMostTurns();
         madeRefused();
         madeTwenty();
-    }
-
-    private static void says(int promise, String words) {
-        Bounds.says(promise, words);
-    }
-
-    private static void due(String call, long got, long want) {
-        Bounds.due(call, got, want);
     }
 
     /** Sayings of all kinds (numbered as these) with word 0 of senses 0, 1, 2; thing t has the traits of t's bits. */
@@ -64,16 +51,16 @@ final class BoundsOfRiddles {
         due("said(7, 0)", y.said(7, 0), 6);
         due("said(7, 1)", y.said(7, 1), NONE);
         says(8, "UNKNOWN");
-        Bounds.refused(Fires::empty, "riddle(0)", o -> o.riddle(0), UNKNOWN);
+        refused(Fires::empty, "riddle(0)", o -> o.riddle(0), UNKNOWN);
         for (int saying : new int[] {-1, 7, 19, 20, MIN, MAX}) {
-            Bounds.refused(Fires::some, "riddle(" + saying + ")", o -> o.riddle(saying), UNKNOWN);
+            refused(Fires::some, "riddle(" + saying + ")", o -> o.riddle(saying), UNKNOWN);
         }
         for (int saying : new int[] {-1, 20, MIN, MAX}) {
-            Bounds.refused(Fires::full, "riddle(" + saying + ") where there are 10", o -> o.riddle(saying), UNKNOWN);
+            refused(Fires::full, "riddle(" + saying + ") where there are 10", o -> o.riddle(saying), UNKNOWN);
         }
         says(8, "FULL");
-        Bounds.refused(Fires::full, "the 11th", o -> o.riddle(0), FULL);
-        Bounds.refused(Fires::full, "the 11th of the last saying", o -> o.riddle(19), FULL);
+        refused(Fires::full, "the 11th", o -> o.riddle(0), FULL);
+        refused(Fires::full, "the 11th of the last saying", o -> o.riddle(19), FULL);
     }
 
     // ---- promise 9
@@ -86,17 +73,17 @@ final class BoundsOfRiddles {
         for (int i = 0; i < 6; i++) due("said(0, " + i + ")", x.said(0, i), 5 - i);
         due("the same saying again", Fires.some().more(0, 0), 3);
         says(9, "UNKNOWN");
-        Bounds.refused(Fires::empty, "more(0, 0)", o -> o.more(0, 0), UNKNOWN);
-        for (int riddle : NO_RIDDLE_OF_SOME) Bounds.refused(Fires::some, "more(" + riddle + ", 0)", o -> o.more(riddle, 0), UNKNOWN);
+        refused(Fires::empty, "more(0, 0)", o -> o.more(0, 0), UNKNOWN);
+        for (int riddle : NO_RIDDLE_OF_SOME) refused(Fires::some, "more(" + riddle + ", 0)", o -> o.more(riddle, 0), UNKNOWN);
         for (int saying : new int[] {-1, 7, 19, 20, MIN, MAX}) {
-            Bounds.refused(Fires::some, "more(0, " + saying + ")", o -> o.more(0, saying), UNKNOWN);
+            refused(Fires::some, "more(0, " + saying + ")", o -> o.more(0, saying), UNKNOWN);
         }
-        Bounds.refused(Fires::full, "more(0, 20), where it has 6", o -> o.more(0, 20), UNKNOWN);
-        Bounds.refused(Fires::full, "more(9, -1), where it has 6", o -> o.more(9, -1), UNKNOWN);
-        Bounds.refused(Fires::full, "more(10, 0)", o -> o.more(10, 0), UNKNOWN);
+        refused(Fires::full, "more(0, 20), where it has 6", o -> o.more(0, 20), UNKNOWN);
+        refused(Fires::full, "more(9, -1), where it has 6", o -> o.more(9, -1), UNKNOWN);
+        refused(Fires::full, "more(10, 0)", o -> o.more(10, 0), UNKNOWN);
         says(9, "FULL: it has 6.");
-        Bounds.refused(Fires::full, "more(0, 0)", o -> o.more(0, 0), FULL);
-        Bounds.refused(Fires::full, "more(9, 19)", o -> o.more(9, 19), FULL);
+        refused(Fires::full, "more(0, 0)", o -> o.more(0, 0), FULL);
+        refused(Fires::full, "more(9, 19)", o -> o.more(9, 19), FULL);
         due("one that has 1, beside those of 6", Fires.full().more(1, 19), 2);
         MouthRiddles five = kinds(4);
         riddleOf(five, 0, 0, 0, 0, 0);
@@ -112,18 +99,18 @@ final class BoundsOfRiddles {
         for (int i = 1; i < 6; i++) due("said(0, " + i + ")", x.said(0, i), 2 * i);
         for (int riddle = 0; riddle < 10; riddle++) due("said(" + riddle + ", 0)", x.said(riddle, 0), 2 * riddle + 1);
         says(10, "NONE");
-        Bounds.asked(Fires::some, "said(1, 1), of one", o -> o.said(1, 1), NONE);
-        Bounds.asked(Fires::some, "said(0, 2), of two", o -> o.said(0, 2), NONE);
-        Bounds.asked(Fires::full, "said(0, 6), of six", o -> o.said(0, 6), NONE);
-        for (int i : new int[] {-1, 7, MIN, MAX}) Bounds.asked(Fires::some, "said(1, " + i + ")", o -> o.said(1, i), NONE);
-        Bounds.asked(Fires::some, "said(1, -1), with a riddle of two ahead", o -> o.said(1, -1), NONE);
+        asked(Fires::some, "said(1, 1), of one", o -> o.said(1, 1), NONE);
+        asked(Fires::some, "said(0, 2), of two", o -> o.said(0, 2), NONE);
+        asked(Fires::full, "said(0, 6), of six", o -> o.said(0, 6), NONE);
+        for (int i : new int[] {-1, 7, MIN, MAX}) asked(Fires::some, "said(1, " + i + ")", o -> o.said(1, i), NONE);
+        asked(Fires::some, "said(1, -1), with a riddle of two ahead", o -> o.said(1, -1), NONE);
         says(10, "UNKNOWN: riddle");
-        Bounds.refused(Fires::empty, "said(0, 0)", o -> o.said(0, 0), UNKNOWN);
+        refused(Fires::empty, "said(0, 0)", o -> o.said(0, 0), UNKNOWN);
         for (int riddle : NO_RIDDLE_OF_SOME) {
-            Bounds.refused(Fires::some, "said(" + riddle + ", 0)", o -> o.said(riddle, 0), UNKNOWN);
-            Bounds.refused(Fires::some, "said(" + riddle + ", -1)", o -> o.said(riddle, -1), UNKNOWN);
+            refused(Fires::some, "said(" + riddle + ", 0)", o -> o.said(riddle, 0), UNKNOWN);
+            refused(Fires::some, "said(" + riddle + ", -1)", o -> o.said(riddle, -1), UNKNOWN);
         }
-        Bounds.refused(Fires::full, "said(10, 6)", o -> o.said(10, 6), UNKNOWN);
+        refused(Fires::full, "said(10, 6)", o -> o.said(10, 6), UNKNOWN);
     }
 
     // ---- promise 11
@@ -156,9 +143,9 @@ final class BoundsOfRiddles {
         y.more(0, 1);
         due("the last of twelve", y.answers(0), 2048);
         says(11, "UNKNOWN");
-        Bounds.refused(Fires::empty, "answers(0)", o -> o.answers(0), UNKNOWN);
-        for (int riddle : NO_RIDDLE_OF_SOME) Bounds.refused(Fires::some, "answers(" + riddle + ")", o -> o.answers(riddle), UNKNOWN);
-        Bounds.refused(Fires::full, "answers(10)", o -> o.answers(10), UNKNOWN);
+        refused(Fires::empty, "answers(0)", o -> o.answers(0), UNKNOWN);
+        for (int riddle : NO_RIDDLE_OF_SOME) refused(Fires::some, "answers(" + riddle + ")", o -> o.answers(riddle), UNKNOWN);
+        refused(Fires::full, "answers(10)", o -> o.answers(10), UNKNOWN);
     }
 
     // ---- promise 12
@@ -187,12 +174,12 @@ final class BoundsOfRiddles {
         MouthRiddles z = kinds(8);
         riddleOf(z, BORROWED, BORROWED, PLAIN);
         due("the last saying does not fit", z.turns(0, 6), NONE);
-        Bounds.asked(Fires::some, "turns(0, 3)", o -> o.turns(0, 3), NONE);
+        asked(Fires::some, "turns(0, 3)", o -> o.turns(0, 3), NONE);
         says(12, "UNKNOWN");
-        Bounds.refused(Fires::empty, "turns(0, 0)", o -> o.turns(0, 0), UNKNOWN);
-        for (int riddle : NO_RIDDLE_OF_SOME) Bounds.refused(Fires::some, "turns(" + riddle + ", 0)", o -> o.turns(riddle, 0), UNKNOWN);
-        for (int thing : NO_THING_OF_SOME) Bounds.refused(Fires::some, "turns(0, " + thing + ")", o -> o.turns(0, thing), UNKNOWN);
-        Bounds.refused(Fires::full, "turns(9, 12)", o -> o.turns(9, 12), UNKNOWN);
+        refused(Fires::empty, "turns(0, 0)", o -> o.turns(0, 0), UNKNOWN);
+        for (int riddle : NO_RIDDLE_OF_SOME) refused(Fires::some, "turns(" + riddle + ", 0)", o -> o.turns(riddle, 0), UNKNOWN);
+        for (int thing : NO_THING_OF_SOME) refused(Fires::some, "turns(0, " + thing + ")", o -> o.turns(0, thing), UNKNOWN);
+        refused(Fires::full, "turns(9, 12)", o -> o.turns(9, 12), UNKNOWN);
     }
 
     // ---- promise 13
@@ -219,17 +206,17 @@ final class BoundsOfRiddles {
 
     private static void judgeRefused() {
         says(13, "NONE: neither is an answer.");
-        Bounds.asked(Fires::some, "judge(5, 0, 1)", o -> o.judge(5, 0, 1), NONE);
-        Bounds.asked(Fires::some, "judge(0, 3, 3)", o -> o.judge(0, 3, 3), NONE);
+        asked(Fires::some, "judge(5, 0, 1)", o -> o.judge(5, 0, 1), NONE);
+        asked(Fires::some, "judge(0, 3, 3)", o -> o.judge(0, 3, 3), NONE);
         says(13, "UNKNOWN");
-        Bounds.refused(Fires::empty, "judge(0, 0, 0)", o -> o.judge(0, 0, 0), UNKNOWN);
-        for (int riddle : NO_RIDDLE_OF_SOME) Bounds.refused(Fires::some, "judge(" + riddle + ", 0, 1)", o -> o.judge(riddle, 0, 1), UNKNOWN);
+        refused(Fires::empty, "judge(0, 0, 0)", o -> o.judge(0, 0, 0), UNKNOWN);
+        for (int riddle : NO_RIDDLE_OF_SOME) refused(Fires::some, "judge(" + riddle + ", 0, 1)", o -> o.judge(riddle, 0, 1), UNKNOWN);
         for (int thing : NO_THING_OF_SOME) {
-            Bounds.refused(Fires::some, "judge(0, " + thing + ", 0)", o -> o.judge(0, thing, 0), UNKNOWN);
-            Bounds.refused(Fires::some, "judge(0, 0, " + thing + ")", o -> o.judge(0, 0, thing), UNKNOWN);
-            Bounds.refused(Fires::some, "judge(0, 3, " + thing + "), where the other is none", o -> o.judge(0, 3, thing), UNKNOWN);
+            refused(Fires::some, "judge(0, " + thing + ", 0)", o -> o.judge(0, thing, 0), UNKNOWN);
+            refused(Fires::some, "judge(0, 0, " + thing + ")", o -> o.judge(0, 0, thing), UNKNOWN);
+            refused(Fires::some, "judge(0, 3, " + thing + "), where the other is none", o -> o.judge(0, 3, thing), UNKNOWN);
         }
-        Bounds.refused(Fires::full, "judge(0, 11, 12)", o -> o.judge(0, 11, 12), UNKNOWN);
+        refused(Fires::full, "judge(0, 11, 12)", o -> o.judge(0, 11, 12), UNKNOWN);
     }
 
     // ---- promise 14
@@ -261,16 +248,16 @@ final class BoundsOfRiddles {
 
     private static void astrayRefused() {
         says(14, "UNKNOWN");
-        Bounds.refused(Fires::empty, "astray(0, 0)", o -> o.astray(0, 0), UNKNOWN);
+        refused(Fires::empty, "astray(0, 0)", o -> o.astray(0, 0), UNKNOWN);
         for (int riddle : NO_RIDDLE_OF_SOME) {
-            Bounds.refused(Fires::some, "astray(" + riddle + ", 0)", o -> o.astray(riddle, 0), UNKNOWN);
-            Bounds.refused(Fires::some, "astray(" + riddle + ", 2), outside, too", o -> o.astray(riddle, 2), UNKNOWN);
+            refused(Fires::some, "astray(" + riddle + ", 0)", o -> o.astray(riddle, 0), UNKNOWN);
+            refused(Fires::some, "astray(" + riddle + ", 2), outside, too", o -> o.astray(riddle, 2), UNKNOWN);
         }
-        Bounds.refused(Fires::full, "astray(10, -1), outside, too", o -> o.astray(10, -1), UNKNOWN);
+        refused(Fires::full, "astray(10, -1), outside, too", o -> o.astray(10, -1), UNKNOWN);
         says(14, "OUTSIDE");
-        for (int what : new int[] {-1, 2, MIN, MAX}) Bounds.refused(Fires::some, "astray(0, " + what + ")", o -> o.astray(0, what), OUTSIDE);
-        Bounds.asked(Fires::some, "astray(1, 0)", o -> o.astray(1, 0), 0);
-        Bounds.asked(Fires::some, "astray(1, 1)", o -> o.astray(1, 1), 5);
+        for (int what : new int[] {-1, 2, MIN, MAX}) refused(Fires::some, "astray(0, " + what + ")", o -> o.astray(0, what), OUTSIDE);
+        asked(Fires::some, "astray(1, 0)", o -> o.astray(1, 0), 0);
+        asked(Fires::some, "astray(1, 1)", o -> o.astray(1, 1), 5);
     }
 
     // ---- promise 15
@@ -343,21 +330,64 @@ final class BoundsOfRiddles {
         due("one saying, though it turns nothing", pairs.made(0, 6), 16);
     }
 
+    private static void madeOfTwenty() {
+        says(TERMS, "of all sets of told SAYINGS (one at least) for which it is the only THING that all FIT");
+        MouthRiddles x = Fires.empty();
+        x.thing(3);
+        x.thing(1);
+        x.sense(0, 0);
+        x.sense(1, 1);
+        for (int i = 0; i < 19; i++) x.saying(SAYING, 0, 0);
+        x.saying(SAYING, 1, 0);
+        due("all twenty fit, the last alone parts", x.made(0, 6), 1 << 19);
+        due("nineteen fit, none parts", x.made(1, 6), NONE);
+        x.thing(3);
+        due("all twenty fit, none parts", x.made(0, 6), NONE);
+        due("all twenty fit, none parts, one at most", x.made(0, 1), NONE);
+    }
+
+    /** All sayings fit thing 0; 0 and 4 fit thing 1, too, 1 to 3 thing 2, 5 thing 3; and 2 to 5 fit by turned senses. */
+    private static void madeOfMostTurns() {
+        says(TERMS, "of like ones of most TURNS; of like ones of least bits.");
+        MouthRiddles x = Fires.empty();
+        x.thing(127);
+        x.thing(1);
+        x.thing(2 | 4 | 8);
+        x.thing(32);
+        x.sense(0, 0);
+        x.sense(1, 1);
+        x.sense(2, 9);
+        x.sense(2, 2);
+        for (int word = 0; word < 3; word++) x.saying(SAYING, word, 0);
+        due("saying 0 and the turned one, of two", x.made(0, 6), 5);
+        x.saying(BORROWED, 2, 0);
+        due("of two turned ones the lesser", x.made(0, 6), 5);
+        x.sense(4, 10);
+        x.sense(4, 0);
+        x.saying(SAYING, 4, 0);
+        due("both turned", x.made(0, 6), 20);
+        x.sense(5, 11);
+        x.sense(5, 5);
+        x.saying(SAYING, 5, 0);
+        due("both turned, in several ways", x.made(0, 6), 20);
+        due("one is too few", x.made(0, 1), NONE);
+    }
+
     private static void madeRefused() {
         says(15, "UNKNOWN");
-        Bounds.refused(Fires::empty, "made(0, 1)", o -> o.made(0, 1), UNKNOWN);
+        refused(Fires::empty, "made(0, 1)", o -> o.made(0, 1), UNKNOWN);
         for (int thing : NO_THING_OF_SOME) {
-            Bounds.refused(Fires::some, "made(" + thing + ", 1)", o -> o.made(thing, 1), UNKNOWN);
-            Bounds.refused(Fires::some, "made(" + thing + ", 0), outside, too", o -> o.made(thing, 0), UNKNOWN);
+            refused(Fires::some, "made(" + thing + ", 1)", o -> o.made(thing, 1), UNKNOWN);
+            refused(Fires::some, "made(" + thing + ", 0), outside, too", o -> o.made(thing, 0), UNKNOWN);
         }
         for (int thing : new int[] {-1, 12, MIN, MAX}) {
-            Bounds.refused(Fires::full, "made(" + thing + ", 1), done 20 times", o -> o.made(thing, 1), UNKNOWN);
-            Bounds.refused(Fires::full, "made(" + thing + ", 7), outside, done 20 times", o -> o.made(thing, 7), UNKNOWN);
+            refused(Fires::full, "made(" + thing + ", 1), done 20 times", o -> o.made(thing, 1), UNKNOWN);
+            refused(Fires::full, "made(" + thing + ", 7), outside, done 20 times", o -> o.made(thing, 7), UNKNOWN);
         }
         says(15, "OUTSIDE");
         for (int k : new int[] {-1, 0, 7, MIN, MAX}) {
-            Bounds.refused(Fires::some, "made(0, " + k + ")", o -> o.made(0, k), OUTSIDE);
-            Bounds.refused(Fires::full, "made(0, " + k + "), done 20 times", o -> o.made(0, k), OUTSIDE);
+            refused(Fires::some, "made(0, " + k + ")", o -> o.made(0, k), OUTSIDE);
+            refused(Fires::full, "made(0, " + k + "), done 20 times", o -> o.made(0, k), OUTSIDE);
         }
     }
 
@@ -365,7 +395,7 @@ final class BoundsOfRiddles {
         says(15, "STATE: it was done 20 times.");
         for (int k = 1; k <= 6; k++) {
             int most = k;
-            Bounds.refused(Fires::full, "made(11, " + k + "), the 21st time", o -> o.made(11, most), STATE);
+            refused(Fires::full, "made(11, " + k + "), the 21st time", o -> o.made(11, most), STATE);
         }
         MouthRiddles x = needing(6);
         for (int i = 0; i < 20; i++) {

@@ -3,13 +3,7 @@ import java.util.List;
 import java.util.function.Supplier;
 
 /** Boundary cases of stakes and of what is told: promises 31 to 34, and the terms that they use. */
-final class BoundsOfStakes {
-    private static final int NONE = Bounds.NONE, UNKNOWN = Bounds.UNKNOWN, OUTSIDE = Bounds.OUTSIDE;
-    private static final int MIN = Bounds.MIN, MAX = Bounds.MAX, TERMS = Bounds.TERMS;
-
-    private BoundsOfStakes() {
-    }
-
+final class BoundsOfStakes extends Bounds {
     static void all() {
         stakes();
         stakesRefused();
@@ -22,14 +16,6 @@ final class BoundsOfStakes {
         digestOfTongues();
         digestWraps();
         digestByCalls();
-    }
-
-    private static void says(int promise, String words) {
-        Bounds.says(promise, words);
-    }
-
-    private static void due(String call, long got, long want) {
-        Bounds.due(call, got, want);
     }
 
     private static MouthRiddles staked(int heads, int riddles, int... stakes) {
@@ -60,23 +46,23 @@ final class BoundsOfStakes {
 
     private static void stakesRefused() {
         says(31, "UNKNOWN");
-        Bounds.refused(Fires::empty, "stake(0, 0, 0)", o -> o.stake(0, 0, 0), UNKNOWN);
-        Bounds.refused(() -> staked(1, 0), "stake(0, 0, 0) without riddles", o -> o.stake(0, 0, 0), UNKNOWN);
-        Bounds.refused(() -> staked(0, 1), "stake(0, 0, 0) without heads", o -> o.stake(0, 0, 0), UNKNOWN);
+        refused(Fires::empty, "stake(0, 0, 0)", o -> o.stake(0, 0, 0), UNKNOWN);
+        refused(() -> staked(1, 0), "stake(0, 0, 0) without riddles", o -> o.stake(0, 0, 0), UNKNOWN);
+        refused(() -> staked(0, 1), "stake(0, 0, 0) without heads", o -> o.stake(0, 0, 0), UNKNOWN);
         for (int head : new int[] {-1, 3, 5, 6, MIN, MAX}) {
-            Bounds.refused(Fires::some, "stake(" + head + ", 0, 1)", o -> o.stake(head, 0, 1), UNKNOWN);
-            Bounds.refused(Fires::some, "stake(" + head + ", 0, 1000), outside, too", o -> o.stake(head, 0, 1000), UNKNOWN);
+            refused(Fires::some, "stake(" + head + ", 0, 1)", o -> o.stake(head, 0, 1), UNKNOWN);
+            refused(Fires::some, "stake(" + head + ", 0, 1000), outside, too", o -> o.stake(head, 0, 1000), UNKNOWN);
         }
         for (int riddle : new int[] {-1, 7, 9, 10, MIN, MAX}) {
-            Bounds.refused(Fires::some, "stake(0, " + riddle + ", 1)", o -> o.stake(0, riddle, 1), UNKNOWN);
-            Bounds.refused(Fires::some, "stake(0, " + riddle + ", -1), outside, too", o -> o.stake(0, riddle, -1), UNKNOWN);
+            refused(Fires::some, "stake(0, " + riddle + ", 1)", o -> o.stake(0, riddle, 1), UNKNOWN);
+            refused(Fires::some, "stake(0, " + riddle + ", -1), outside, too", o -> o.stake(0, riddle, -1), UNKNOWN);
         }
-        Bounds.refused(Fires::full, "stake(6, 9, 1)", o -> o.stake(6, 9, 1), UNKNOWN);
-        Bounds.refused(Fires::full, "stake(5, 10, 1)", o -> o.stake(5, 10, 1), UNKNOWN);
+        refused(Fires::full, "stake(6, 9, 1)", o -> o.stake(6, 9, 1), UNKNOWN);
+        refused(Fires::full, "stake(5, 10, 1)", o -> o.stake(5, 10, 1), UNKNOWN);
         says(31, "OUTSIDE");
         for (int v : new int[] {-1, 1000, MIN, MAX}) {
-            Bounds.refused(Fires::some, "stake(0, 0, " + v + ")", o -> o.stake(0, 0, v), OUTSIDE);
-            Bounds.refused(Fires::full, "stake(5, 9, " + v + ")", o -> o.stake(5, 9, v), OUTSIDE);
+            refused(Fires::some, "stake(0, 0, " + v + ")", o -> o.stake(0, 0, v), OUTSIDE);
+            refused(Fires::full, "stake(5, 9, " + v + ")", o -> o.stake(5, 9, v), OUTSIDE);
         }
     }
 
@@ -130,15 +116,15 @@ final class BoundsOfStakes {
         due("without heads", staked(0, 10).whom(NONE), 0);
         due("without riddles", staked(6, 0).whom(NONE), 0);
         due("one of each", staked(1, 1, 999).whom(NONE), 999);
-        Bounds.asked(Fires::full, "six of ten", o -> o.whom(NONE), 6 * 999 - 15);
+        asked(Fires::full, "six of ten", o -> o.whom(NONE), 6 * 999 - 15);
     }
 
     private static void whomRefused() {
         says(32, "UNKNOWN: head");
-        Bounds.refused(Fires::empty, "whom(0)", o -> o.whom(0), UNKNOWN);
-        Bounds.refused(() -> staked(0, 3), "whom(0) with riddles alone", o -> o.whom(0), UNKNOWN);
-        for (int head : new int[] {-2, 3, 5, 6, MIN, MAX}) Bounds.refused(Fires::some, "whom(" + head + ")", o -> o.whom(head), UNKNOWN);
-        for (int head : new int[] {-2, 6, MIN, MAX}) Bounds.refused(Fires::full, "whom(" + head + ")", o -> o.whom(head), UNKNOWN);
+        refused(Fires::empty, "whom(0)", o -> o.whom(0), UNKNOWN);
+        refused(() -> staked(0, 3), "whom(0) with riddles alone", o -> o.whom(0), UNKNOWN);
+        for (int head : new int[] {-2, 3, 5, 6, MIN, MAX}) refused(Fires::some, "whom(" + head + ")", o -> o.whom(head), UNKNOWN);
+        for (int head : new int[] {-2, 6, MIN, MAX}) refused(Fires::full, "whom(" + head + ")", o -> o.whom(head), UNKNOWN);
     }
 
     // ---- promise 33
@@ -150,15 +136,15 @@ final class BoundsOfStakes {
         int[] ofFull = {12, 48, 20, 10, 6, 4, 15, 40, 20, 12};
         for (int what = 0; what < 10; what++) {
             int asked = what;
-            Bounds.asked(Fires::empty, "count(" + what + ")", o -> o.count(asked), 0);
-            Bounds.asked(Fires::some, "count(" + what + ")", o -> o.count(asked), ofSome[what]);
-            Bounds.asked(Fires::full, "count(" + what + ")", o -> o.count(asked), ofFull[what]);
+            asked(Fires::empty, "count(" + what + ")", o -> o.count(asked), 0);
+            asked(Fires::some, "count(" + what + ")", o -> o.count(asked), ofSome[what]);
+            asked(Fires::full, "count(" + what + ")", o -> o.count(asked), ofFull[what]);
         }
         says(33, "OUTSIDE");
         for (int what : new int[] {-1, 10, MIN, MAX}) {
-            Bounds.refused(Fires::empty, "count(" + what + ")", o -> o.count(what), OUTSIDE);
-            Bounds.refused(Fires::some, "count(" + what + ")", o -> o.count(what), OUTSIDE);
-            Bounds.refused(Fires::full, "count(" + what + ")", o -> o.count(what), OUTSIDE);
+            refused(Fires::empty, "count(" + what + ")", o -> o.count(what), OUTSIDE);
+            refused(Fires::some, "count(" + what + ")", o -> o.count(what), OUTSIDE);
+            refused(Fires::full, "count(" + what + ")", o -> o.count(what), OUTSIDE);
         }
     }
 
@@ -205,7 +191,7 @@ final class BoundsOfStakes {
     private static void digestOfParts() {
         says(34, "h is 349, then for each of these numbers, in order, 31 times h, and it");
         int[] bare = {-1, -1, -1, -1, -1, -1, -1, -1, 0, 0, 0, 0, 0, 0, 0, 0, 0, 0};
-        due("of a new object", Fires.empty().digest(), Bounds.hash(bare));
+        due("of a new object", Fires.empty().digest(), hash(bare));
         says(34, "of each THING its TRAITS; of each WORD of each SENSE its TRAIT; of each SAYING KIND, WORD, n, of each THING BY (NONE)");
         MouthRiddles x = Fires.empty();
         x.thing(2);
@@ -215,7 +201,7 @@ final class BoundsOfStakes {
         x.sense(15, 1);
         x.saying(2, 15, 23);
         x.saying(5, 0, 0);
-        due("of lore", x.digest(), Bounds.hash(2, 16777215, 23, 0, 1, 2, 15, 23, 1, 1, 5, 0, 0, 0, -1,
+        due("of lore", x.digest(), hash(2, 16777215, 23, 0, 1, 2, 15, 23, 1, 1, 5, 0, 0, 0, -1,
             -1, -1, -1, -1, -1, -1, -1, -1, 2, 3, 2, 0, 0, 0, 0, 0, 0, 0));
         says(34, "of each RIDDLE its SAYINGS, ANSWERS, of each HEAD what hears() tells for 0 and 1, its STAKE");
         x.riddle(0);
@@ -224,14 +210,14 @@ final class BoundsOfStakes {
         x.head(99, 99);
         x.riddle(0);
         x.stake(1, 0, 999);
-        due("of riddles", x.digest(), Bounds.hash(2, 16777215, 23, 0, 1, 2, 15, 23, 1, 1, 5, 0, 0, 0, -1,
+        due("of riddles", x.digest(), hash(2, 16777215, 23, 0, 1, 2, 15, 23, 1, 1, 5, 0, 0, 0, -1,
             0, 1, 1, 0, 7, 0, 0, 198, 999, 0, 3, -1, -1, 0, -1, -1, 0,
             -1, -1, -1, -1, -1, -1, -1, -1, 2, 3, 2, 2, 2, 0, 0, 0, 0, 0));
         says(34, "of each LAND its VARIANT; with a TREE LEAST CHANGES, SURE of each NODE; letters of THE PAGE; what count() tells for 0 to 9.");
         MouthRiddles y = Fires.ofTree("((a,b),c)", 7, 0, 0, NONE, NONE, NONE, NONE, 3);
         y.letters(0x7e01L);
         y.chance(1);
-        due("of lands", y.digest(), Bounds.hash(7, 0, 0, -1, -1, -1, -1, 3, 1, 0, 0, 7, 0, 0, 1, 126, 0, 0, 0, 0, 0, 0, 5, 2, 0, 1));
+        due("of lands", y.digest(), hash(7, 0, 0, -1, -1, -1, -1, 3, 1, 0, 0, 7, 0, 0, 1, 126, 0, 0, 0, 0, 0, 0, 5, 2, 0, 1));
     }
 
     private static void digestOfTongues() {
@@ -243,15 +229,15 @@ final class BoundsOfStakes {
         x.riddle(1);
         x.tongue();
         x.tongue();
-        due("without things", x.digest(), Bounds.hash(5, 1, 0, 0, 1, 0, 0, 0, 1, 0,
+        due("without things", x.digest(), hash(5, 1, 0, 0, 1, 0, 0, 0, 1, 0,
             -1, -1, -1, -1, -1, -1, -1, -1, 0, 0, 2, 2, 0, 2, 0, 0, 0, 0));
         x.thing(0);
-        due("with one", x.digest(), Bounds.hash(0, 5, 1, 0, 0, 0, 1, 0, -1, 0, 1, 1, 0,
+        due("with one", x.digest(), hash(0, 5, 1, 0, 0, 0, 1, 0, -1, 0, 1, 1, 0,
             1, 0, 0, 1, 1, 0, 0, 1, -1, -1, -1, -1, -1, -1, -1, -1, 1, 0, 2, 2, 0, 2, 0, 0, 0, 0));
         x.thing(2);
         x.sense(1, 1);
         x.lack(1, 1, 0, true);
-        due("with two", x.digest(), Bounds.hash(0, 2, 1, 5, 1, 0, 0, -1, 0, 1, 0, -1, 0, 0, 1, 1, 2,
+        due("with two", x.digest(), hash(0, 2, 1, 5, 1, 0, 0, -1, 0, 1, 0, -1, 0, 0, 1, 1, 2,
             1, 0, 0, 1, 1, 0, 0, 1, -1, -1, -1, -1, -1, -1, -1, -1, 2, 1, 2, 2, 0, 2, 0, 0, 0, 0));
     }
 
@@ -264,7 +250,7 @@ final class BoundsOfStakes {
             MouthRiddles x = Fires.empty();
             x.thing(traits * 1398101);
             long told = x.digest();
-            due("of one thing", told, Bounds.hash(traits * 1398101, -1, -1, -1, -1, -1, -1, -1, -1, 1, 0, 0, 0, 0, 0, 0, 0, 0, 0));
+            due("of one thing", told, hash(traits * 1398101, -1, -1, -1, -1, -1, -1, -1, -1, 1, 0, 0, 0, 0, 0, 0, 0, 0, 0));
             below |= told < 0;
             above |= told > 0;
         }
@@ -293,7 +279,7 @@ final class BoundsOfStakes {
             tellLands(made.get(i), told);
             for (char letter : pages[i].toCharArray()) told.add((int) letter);
             for (int what = 0; what < 10; what++) told.add(made.get(i).get().count(what));
-            long hash = Bounds.hash(told.stream().mapToInt(Integer::intValue).toArray());
+            long hash = hash(told.stream().mapToInt(Integer::intValue).toArray());
             due("digest() of object " + i + ", by what other calls tell", made.get(i).get().digest(), hash);
         }
     }
