@@ -2,8 +2,8 @@ import java.util.Random;
 
 /** Long runs of calls, drawn from told seeds, on the program and on the model at once. */
 public final class ModelTest {
-    // A step makes up to a hundred calls, and an object is used for 512 at most.
-    private static final int RUNS = 240, LAST_STEP_AT = 400, MAKINGS = 400;
+    // A step makes up to a hundred calls; behind the last one single calls fill up the 512 that an object is used for.
+    private static final int RUNS = 240, LAST_STEP_AT = 400, CALLS = 512, MAKINGS = 400;
     private static final int[] ODD = {-1, -2, 0, 1, 2, 3, 5, 6, 7, 8, 9, 10, 11, 12, 15, 16, 19, 20, 23, 24, 39, 40, 99, 100, 999, 1000,
         16777215, 16777216, Integer.MAX_VALUE, Integer.MIN_VALUE};
 
@@ -34,8 +34,19 @@ public final class ModelTest {
             if (i % 40 == 39) digest();
             else step(i);
         }
+        while (calls < CALLS - 1 && wrong < 5) singleCall();
         digest();
+        if (calls != CALLS && wrong < 5) throw new IllegalStateException("run " + run + " has " + calls + " calls");
         return wrong;
+    }
+
+    private void singleCall() {
+        int part = below(5);
+        if (part == 0) lore();
+        else if (part == 1) riddles();
+        else if (part == 2) heads();
+        else if (part == 3) tongues();
+        else stakes();
     }
 
     /** Things that share many of their traits: riddles for one alone take several sayings, in several ways. */

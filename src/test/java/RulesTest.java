@@ -24,7 +24,7 @@ public final class RulesTest {
         System.out.println("RulesTest: " + name);
     }
 
-    public static void main(String[] args) throws IOException {
+    public static void main(String[] args) throws IOException, IllegalAccessException {
         face();
         nested();
         text();
@@ -44,7 +44,27 @@ public final class RulesTest {
         return face;
     }
 
-    private static void face() throws IOException {
+    private static Set<String> constantsOfDocument() throws IOException {
+        String doc = Files.readString(Path.of("../shared/DOC.md"));
+        Matcher line = Pattern.compile("public static final int ([^;]*);").matcher(doc);
+        return line.find() ? new TreeSet<>(List.of(line.group(1).split(", "))) : Set.of();
+    }
+
+    private static void constants() throws IOException, IllegalAccessException {
+        Set<String> constants = new TreeSet<>();
+        for (Field field : MouthRiddles.class.getDeclaredFields()) {
+            if (!Modifier.isPublic(field.getModifiers())) {
+                rule("a field that is not private: " + field, Modifier.isPrivate(field.getModifiers()));
+                continue;
+            }
+            rule("a constant that is no static final int: " + field, field.getType() == int.class
+                && Modifier.isStatic(field.getModifiers()) && Modifier.isFinal(field.getModifiers()));
+            if (isStatic(field)) constants.add(field.getName() + " = " + field.get(null));
+        }
+        rule("the constants are " + constants + ", the document has " + constantsOfDocument(), constants.equals(constantsOfDocument()));
+    }
+
+    private static void face() throws IOException, IllegalAccessException {
         Set<String> own = new TreeSet<>();
         Set<String> shown = new HashSet<>();
         for (Method method : MouthRiddles.class.getDeclaredMethods()) {
@@ -56,12 +76,7 @@ public final class RulesTest {
             shown.add(method.getName());
         }
         rule("the methods are " + own + ", the document has " + faceOfDocument(), own.equals(faceOfDocument()));
-        Set<String> constants = new TreeSet<>();
-        for (Field field : MouthRiddles.class.getDeclaredFields()) {
-            if (Modifier.isPublic(field.getModifiers())) constants.add(field.getName());
-            else rule("a field that is not private: " + field, Modifier.isPrivate(field.getModifiers()));
-        }
-        rule("the constants are " + constants, constants.equals(Set.of("NONE", "UNKNOWN", "OUTSIDE", "STATE", "FULL")));
+        constants();
         Constructor<?>[] made = MouthRiddles.class.getDeclaredConstructors();
         rule("one public constructor without arguments", made.length == 1 && made[0].getParameterCount() == 0 && Modifier.isPublic(made[0].getModifiers()));
         rule("the class is public and final", Modifier.isFinal(MouthRiddles.class.getModifiers()) && Modifier.isPublic(MouthRiddles.class.getModifiers()));
@@ -104,6 +119,9 @@ public final class RulesTest {
             String line = lines.get(i).replaceAll("//.*|^\\s*(/\\*\\*|\\*).*", "");
             rule("line " + (i + 1) + " has what is ruled out: " + line, !banned.matcher(line).find());
             rule("line " + (i + 1) + " imports " + line, !line.startsWith("import") || line.matches("import java\\.util\\.(Arrays|ArrayList|List);"));
+            // All calls of a run share one room, so that rows come with fields and constructors alone.
+            boolean kept = line.matches("\\s+private (final )?\\S+ \\w+ = new .*|.*\\bsights\\[\\w+\\] = new Sight\\(.*");
+            rule("line " + (i + 1) + " makes an object in a call: " + line, kept || !line.matches(".*(\\bnew\\b|\\.clone\\(|\\bcopyOf).*"));
             rule("line " + (i + 1) + " holds other signs", line.chars().allMatch(c -> c >= 32 && c < 127));
             if (line.matches("\\s+(public|private|static|int|long|boolean|void|[A-Z]).*\\) \\{")) begun = i;
             if (line.matches("    }|        }")) rule("sixty lines at most, up to line " + (i + 1), i - begun < 60 || line.equals("    }"));
